@@ -1,0 +1,156 @@
+/** Promises 1 to 5. */
+final class CoilTest {
+    private static final Class<IllegalArgumentException> ARGUMENT = IllegalArgumentException.class;
+    private static final Class<IllegalStateException> STATE = IllegalStateException.class;
+    private static final Class<IndexOutOfBoundsException> INDEX = IndexOutOfBoundsException.class;
+    private static final Class<UnsupportedOperationException> UNSUPPORTED = UnsupportedOperationException.class;
+
+    public static void main(String[] args) {
+        newShop();
+        bounds();
+        twelve();
+        weights();
+        welds();
+        weldRefusals();
+        weldChains();
+        weldOfRest();
+        Check.end();
+    }
+
+    private static void newShop() {
+        StrikeStrip shop = new StrikeStrip();
+        Check.refuses(shop, "left of no coil", INDEX, () -> shop.left(0));
+        Check.refuses(shop, "racks of no part", INDEX, () -> shop.racks(0));
+        Check.refuses(shop, "shims of no die", INDEX, () -> shop.shims(0));
+        Check.is("press of a new shop", shop.press(200), 200);
+        Check.is("the end of no run", shop.ended(), '-');
+        Check.is("the first minute", shop.pass(1), 1);
+        Check.isTrue("a new shop is sound", new StrikeStrip().isSound());
+    }
+
+    private static void bounds() {
+        StrikeStrip shop = new StrikeStrip();
+        Check.refuses(shop, "alloy -1", ARGUMENT, () -> shop.coil(-1, 100, 50, 10));
+        Check.refuses(shop, "alloy 4", ARGUMENT, () -> shop.coil(4, 100, 50, 10));
+        Check.refuses(shop, "thickness 19", ARGUMENT, () -> shop.coil(0, 19, 50, 10));
+        Check.refuses(shop, "thickness 601", ARGUMENT, () -> shop.coil(0, 601, 50, 10));
+        Check.refuses(shop, "width 9", ARGUMENT, () -> shop.coil(0, 100, 9, 10));
+        Check.refuses(shop, "width 501", ARGUMENT, () -> shop.coil(0, 100, 501, 10));
+        Check.refuses(shop, "length 0", ARGUMENT, () -> shop.coil(0, 100, 50, 0));
+        Check.refuses(shop, "length 100001", ARGUMENT, () -> shop.coil(0, 100, 50, 100001));
+        Check.refuses(shop, "least length", ARGUMENT, () -> shop.coil(0, 100, 50, Integer.MIN_VALUE));
+        Check.is("the least coil", shop.coil(0, 20, 10, 1), 0);
+        Check.is("the greatest coil", shop.coil(3, 600, 500, 100000), 1);
+        Check.is("left of the least", shop.left(0), 1);
+        Check.is("left of the greatest", shop.left(1), 100000);
+        Check.is("weight of the least", shop.weight(0), 15);
+        Check.is("weight of the greatest", shop.weight(1), 2550000000L);
+        Check.refuses(shop, "left(-1)", INDEX, () -> shop.left(-1));
+        Check.refuses(shop, "left(2)", INDEX, () -> shop.left(2));
+        Check.refuses(shop, "left(12)", INDEX, () -> shop.left(12));
+        Check.refuses(shop, "weight(-1)", INDEX, () -> shop.weight(-1));
+        Check.refuses(shop, "weight(2)", INDEX, () -> shop.weight(2));
+        Check.refuses(shop, "weight(max)", INDEX, () -> shop.weight(Integer.MAX_VALUE));
+    }
+
+    private static void twelve() {
+        StrikeStrip shop = new StrikeStrip();
+        for (int i = 0; i < 12; i++) {
+            Check.is("the number of a coil", shop.coil(0, 100, 50, 10), i);
+        }
+        Check.refuses(shop, "the 13th coil", STATE, () -> shop.coil(0, 100, 50, 10));
+        Check.refuses(shop, "a wrong 13th coil", ARGUMENT, () -> shop.coil(4, 100, 50, 10));
+        shop.weld(0, 1);
+        Check.refuses(shop, "the 13th coil behind a weld", STATE, () -> shop.coil(0, 100, 50, 10));
+    }
+
+    private static void weights() {
+        StrikeStrip shop = new StrikeStrip();
+        shop.coil(0, 21, 11, 3);
+        shop.coil(1, 21, 11, 3);
+        shop.coil(2, 21, 11, 3);
+        shop.coil(3, 21, 11, 3);
+        Check.is("weight of alloy 0", shop.weight(0), 54);
+        Check.is("weight of alloy 1", shop.weight(1), 18);
+        Check.is("weight of alloy 2", shop.weight(2), 62);
+        Check.is("weight of alloy 3", shop.weight(3), 58);
+    }
+
+    private static void welds() {
+        StrikeStrip shop = new StrikeStrip();
+        shop.coil(0, 21, 11, 3);
+        shop.coil(0, 26, 11, 3);
+        Check.is("weight of a stretch", shop.weight(1), 67);
+        Check.is("a weld", shop.weld(0, 1), 6);
+        Check.is("left of it", shop.left(0), 6);
+        Check.is("left of the other one", shop.left(1), 0);
+        Check.is("weight of the other one", shop.weight(1), 0);
+        Check.is("weight of both, rounded once", shop.weight(0), 121);
+        Check.isTrue("sound", shop.isSound());
+    }
+
+    private static void weldRefusals() {
+        StrikeStrip shop = new StrikeStrip();
+        shop.coil(0, 100, 50, 10);
+        shop.coil(0, 106, 50, 10);
+        shop.coil(1, 100, 50, 10);
+        shop.coil(0, 100, 51, 10);
+        shop.coil(0, 95, 50, 10);
+        shop.coil(0, 94, 50, 10);
+        Check.refuses(shop, "weld(-1, 0)", INDEX, () -> shop.weld(-1, 0));
+        Check.refuses(shop, "weld(0, 6)", INDEX, () -> shop.weld(0, 6));
+        Check.refuses(shop, "weld(6, 6)", INDEX, () -> shop.weld(6, 6));
+        Check.refuses(shop, "weld(0, 0)", UNSUPPORTED, () -> shop.weld(0, 0));
+        Check.refuses(shop, "a thicker one", UNSUPPORTED, () -> shop.weld(0, 1));
+        Check.refuses(shop, "a thinner one", UNSUPPORTED, () -> shop.weld(0, 5));
+        Check.refuses(shop, "another alloy", UNSUPPORTED, () -> shop.weld(0, 2));
+        Check.refuses(shop, "another width", UNSUPPORTED, () -> shop.weld(0, 3));
+        Check.is("just so", shop.weld(0, 4), 20);
+        Check.refuses(shop, "one that is used up", UNSUPPORTED, () -> shop.weld(0, 4));
+        Check.refuses(shop, "to one that is used up", UNSUPPORTED, () -> shop.weld(4, 5));
+        Check.refuses(shop, "an end that is too thin", UNSUPPORTED, () -> shop.weld(0, 1));
+        Check.is("the end counts", shop.weld(0, 5), 30);
+    }
+
+    private static void weldChains() {
+        StrikeStrip shop = new StrikeStrip();
+        for (int i = 0; i < 12; i++) {
+            shop.coil(2, 100 + 5 * i, 50, 10 + i);
+        }
+        for (int i = 10; i >= 6; i--) {
+            shop.weld(i, i + 1);
+        }
+        for (int i = 1; i <= 5; i++) {
+            shop.weld(0, i);
+        }
+        Check.refuses(shop, "the wrong way around", UNSUPPORTED, () -> shop.weld(6, 0));
+        Check.is("all twelve", shop.weld(0, 6), 186);
+        long weight = 0;
+        for (int i = 0; i < 12; i++) {
+            weight += 50L * (10 + i) * (100 + 5 * i) * 896;
+        }
+        Check.is("their weight", shop.weight(0), weight / 10000);
+        Check.isTrue("sound", shop.isSound());
+    }
+
+    /** A stretch that was run down to nothing is not what the next one meets. */
+    private static void weldOfRest() {
+        StrikeStrip shop = new StrikeStrip();
+        shop.coil(0, 100, 50, 10);
+        shop.coil(0, 105, 50, 10);
+        shop.coil(0, 110, 50, 10);
+        shop.coil(0, 97, 50, 10);
+        shop.weld(0, 1);
+        shop.part(0, 100);
+        shop.draw(0, 0, 0, 1, 1);
+        shop.die(0, false);
+        shop.change(0);
+        Check.is("a run down to the weld", shop.run(0, 1), 1);
+        Check.refuses(shop, "to the end that met it", UNSUPPORTED, () -> shop.weld(3, 0));
+        Check.is("behind the rest", shop.weld(0, 2), 20);
+        shop.run(0, 2);
+        Check.is("nothing is left", shop.left(0), 0);
+        Check.refuses(shop, "to a coil without metal", UNSUPPORTED, () -> shop.weld(0, 3));
+        Check.refuses(shop, "of a coil without metal", UNSUPPORTED, () -> shop.weld(3, 0));
+    }
+}

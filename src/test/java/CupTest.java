@@ -1,0 +1,89 @@
+/** Promises 16 to 19. */
+final class CupTest {
+    private static final Class<IllegalArgumentException> ARGUMENT = IllegalArgumentException.class;
+
+    public static void main(String[] args) {
+        discs();
+        draws();
+        refusals();
+        tries();
+        Check.end();
+    }
+
+    private static void discs() {
+        StrikeStrip shop = new StrikeStrip();
+        Check.is("a disc", shop.disc(50, 40), 103);
+        Check.is("the flattest", shop.disc(999, 0), 999);
+        Check.is("the least", shop.disc(1, 0), 1);
+        Check.is("the greatest", shop.disc(999, 999), 2234);
+        Check.is("a whole root", shop.disc(4, 3), 8);
+        for (int diameter = 1; diameter < 999; diameter += 13) {
+            for (int height = 0; height < 999; height += 31) {
+                long square = (long) diameter * diameter + 4L * diameter * height;
+                long due = (long) Math.ceil(Math.sqrt(square));
+                Check.is("a disc", shop.disc(diameter, height), due);
+            }
+        }
+    }
+
+    private static void draws() {
+        StrikeStrip shop = new StrikeStrip();
+        Check.is("two", shop.draws(50, 40, false), 2);
+        Check.is("five", shop.draws(50, 200, false), 5);
+        Check.is("four, annealed", shop.draws(50, 200, true), 4);
+        Check.is("as wide as the cup", shop.draws(999, 0, true), 0);
+        Check.is("one", shop.draws(999, 1, false), 1);
+        // 10 by 5.8 is 18 wide and then 10: one draw; 19 becomes 11 and then 9.
+        Check.is("just one", shop.draws(10, 5, false), 1);
+        Check.is("one more", shop.draws(10, 6, false), 2);
+        // 3, 2, 1: each narrower by 1 at least.
+        Check.is("by one", shop.draws(1, 2, false), 2);
+        // 46: 26, 21, 17, 14, 11, 9, 8, 7, 6, 5, 4, 3, 2, 1.
+        Check.is("by one, at last", shop.draws(1, 500, false), 14);
+        // 46: 26, 19 (70), 15, 12, 10, 8, 7, 6, 5, 4, 3, 2, 1.
+        Check.is("the second one alone is annealed", shop.draws(1, 500, true), 13);
+    }
+
+    private static void refusals() {
+        StrikeStrip shop = new StrikeStrip();
+        int[][] wrong = {{0, 0}, {1000, 0}, {1, -1}, {1, 1000}, {-1, 0}};
+        for (int[] cup : wrong) {
+            Check.refuses(shop, "a disc", ARGUMENT, () -> shop.disc(cup[0], cup[1]));
+            Check.refuses(shop, "draws", ARGUMENT, () -> shop.draws(cup[0], cup[1], false));
+            Check.refuses(shop, "draws, annealed", ARGUMENT, () -> shop.draws(cup[0], cup[1], true));
+        }
+        int[][] angles = {{0, 0}, {18001, 0}, {1, -1}, {1, 301}};
+        for (int[] angle : angles) {
+            Check.refuses(shop, "tried", ARGUMENT, () -> shop.tried(angle[0], angle[1]));
+            Check.refuses(shop, "tries", ARGUMENT, () -> shop.tries(angle[0], angle[1]));
+        }
+    }
+
+    private static void tries() {
+        StrikeStrip shop = new StrikeStrip();
+        Check.is("the tool", shop.tried(9000, 50), 9473);
+        Check.is("how often", shop.tries(9000, 50), 4);
+        Check.is("without a spring", shop.tries(18000, 0), 1);
+        Check.is("its tool", shop.tried(18000, 0), 18000);
+        Check.is("the least", shop.tried(1, 300), 1);
+        Check.is("once", shop.tries(1, 300), 1);
+        int most = 0;
+        for (int angle = 1; angle <= 18000; angle += 7) {
+            for (int spring = 0; spring <= 300; spring += 3) {
+                int tool = angle;
+                int struck = 0;
+                boolean isRight = false;
+                while (!isRight && struck < 20) {
+                    struck++;
+                    int part = tool - (int) Math.floor(tool * spring / 1000.0);
+                    isRight = part == angle;
+                    tool += angle - part;
+                }
+                most = Math.max(most, struck);
+                Check.is("tried", shop.tried(angle, spring), tool);
+                Check.is("tries", shop.tries(angle, spring), struck);
+            }
+        }
+        Check.isTrue("many tries were told", most > 8);
+    }
+}

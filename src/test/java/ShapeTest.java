@@ -1,0 +1,254 @@
+import java.util.NoSuchElementException;
+import java.util.Random;
+
+/** Promises 6 to 11. */
+final class ShapeTest {
+    private static final Class<IllegalArgumentException> ARGUMENT = IllegalArgumentException.class;
+    private static final Class<IllegalStateException> STATE = IllegalStateException.class;
+    private static final Class<IndexOutOfBoundsException> INDEX = IndexOutOfBoundsException.class;
+    private static final Class<UnsupportedOperationException> UNSUPPORTED = UnsupportedOperationException.class;
+    private static final Class<NoSuchElementException> NONE = NoSuchElementException.class;
+
+    public static void main(String[] args) {
+        parts();
+        draws();
+        emptyShapes();
+        corners();
+        pairs();
+        revisions();
+        anyShapes();
+        Check.end();
+    }
+
+    private static void parts() {
+        StrikeStrip shop = new StrikeStrip();
+        Check.refuses(shop, "alloy -1", ARGUMENT, () -> shop.part(-1, 100));
+        Check.refuses(shop, "alloy 4", ARGUMENT, () -> shop.part(4, 100));
+        Check.refuses(shop, "thickness 19", ARGUMENT, () -> shop.part(0, 19));
+        Check.refuses(shop, "thickness 601", ARGUMENT, () -> shop.part(0, 601));
+        for (int i = 0; i < 8; i++) {
+            Check.is("the number of a part", shop.part(i % 4, i % 2 == 0 ? 20 : 600), i);
+        }
+        Check.refuses(shop, "the 9th part", STATE, () -> shop.part(0, 100));
+        Check.refuses(shop, "a wrong 9th part", ARGUMENT, () -> shop.part(0, 19));
+    }
+
+    private static void draws() {
+        StrikeStrip shop = new StrikeStrip();
+        shop.part(0, 100);
+        Check.refuses(shop, "part -1", INDEX, () -> shop.draw(-1, 0, 0, 1, 1));
+        Check.refuses(shop, "part 1, off the board", INDEX, () -> shop.draw(1, 8, 0, 1, 1));
+        int[][] wrong = {{-1, 0, 1, 1}, {0, -1, 1, 1}, {8, 0, 1, 1}, {0, 8, 1, 1}, {0, 0, 9, 1}, {0, 0, 1, 9},
+            {5, 0, 4, 1}, {0, 5, 1, 4}, {0, 0, 0, 1}, {0, 0, 1, 0}, {0, 0, -1, 1}, {0, 0, 1, -1},
+            {1, 0, Integer.MAX_VALUE, 1}, {0, 1, 1, Integer.MAX_VALUE}, {Integer.MIN_VALUE, 0, 1, 1},
+            {Integer.MAX_VALUE, 0, 1, 1}, {0, 0, Integer.MIN_VALUE, 1}};
+        for (int[] box : wrong) {
+            Check.refuses(shop, "a box off the board", ARGUMENT, () -> shop.draw(0, box[0], box[1], box[2], box[3]));
+        }
+        Check.is("a cell in a corner", shop.draw(0, 7, 7, 1, 1), 1);
+        Check.is("the same one", shop.draw(0, 7, 7, 1, 1), 1);
+        Check.is("a box", shop.draw(0, 2, 1, 3, 2), 7);
+        Check.is("a box over it", shop.draw(0, 4, 2, 2, 2), 10);
+        shop.die(0, false);
+        Check.refuses(shop, "a part with a die", UNSUPPORTED, () -> shop.draw(0, 0, 0, 1, 1));
+        Check.refuses(shop, "a box off the board, with a die", ARGUMENT, () -> shop.draw(0, 8, 0, 1, 1));
+        shop.part(0, 100);
+        Check.is("another part without a die", shop.draw(1, 0, 0, 8, 8), 64);
+        Check.is("the pitch of a whole board", shop.pitch(1, false), 9);
+        Check.is("its height", shop.height(1, false), 10);
+        Check.is("what it uses", shop.used(1, false), 711);
+    }
+
+    private static void emptyShapes() {
+        StrikeStrip shop = new StrikeStrip();
+        shop.part(0, 100);
+        for (boolean isPair : new boolean[] {false, true}) {
+            Check.refuses(shop, "pitch without a part", INDEX, () -> shop.pitch(1, isPair));
+            Check.refuses(shop, "height without a part", INDEX, () -> shop.height(-1, isPair));
+            Check.refuses(shop, "used without a part", INDEX, () -> shop.used(8, isPair));
+            Check.refuses(shop, "pitch of nothing", NONE, () -> shop.pitch(0, isPair));
+            Check.refuses(shop, "height of nothing", NONE, () -> shop.height(0, isPair));
+            Check.refuses(shop, "used of nothing", NONE, () -> shop.used(0, isPair));
+        }
+    }
+
+    private static void corners() {
+        StrikeStrip shop = new StrikeStrip();
+        shop.part(0, 100);
+        shop.draw(0, 0, 0, 1, 1);
+        Check.is("the pitch of a cell", shop.pitch(0, false), 2);
+        Check.is("the height of a cell", shop.height(0, false), 3);
+        Check.is("what a cell uses", shop.used(0, false), 166);
+        shop.draw(0, 3, 1, 1, 1);
+        Check.is("across corners, by twice the pitch, too", shop.pitch(0, false), 5);
+        StrikeStrip other = new StrikeStrip();
+        other.part(0, 100);
+        other.draw(0, 0, 0, 1, 1);
+        other.draw(0, 3, 2, 1, 1);
+        Check.is("a row lies between", other.pitch(0, false), 2);
+        Check.is("its height", other.height(0, false), 5);
+    }
+
+    private static void pairs() {
+        StrikeStrip shop = new StrikeStrip();
+        shop.part(0, 100);
+        shop.draw(0, 0, 0, 4, 1);
+        shop.draw(0, 0, 0, 1, 4);
+        Check.is("the pitch of two angles", shop.pitch(0, true), 5);
+        Check.is("their height", shop.height(0, true), 8);
+        Check.is("what they use", shop.used(0, true), 350);
+        shop.part(0, 100);
+        shop.draw(1, 3, 3, 1, 1);
+        Check.is("the pitch of two cells", shop.pitch(1, true), 2);
+        Check.is("two cells lie above each other", shop.height(1, true), 5);
+        shop.part(0, 100);
+        shop.draw(2, 0, 0, 1, 8);
+        Check.is("the pitch of two bars", shop.pitch(2, true), 2);
+        Check.is("two bars lie above each other: 38 is less than 40", shop.height(2, true), 19);
+        shop.draw(2, 0, 0, 8, 1);
+        Check.is("drawn on, it is laid anew", shop.pitch(2, true), leastPair(cells(twoSides())) / 100);
+    }
+
+    private static boolean[][] twoSides() {
+        boolean[][] shape = new boolean[8][8];
+        for (int i = 0; i < 8; i++) {
+            shape[i][0] = true;
+            shape[0][i] = true;
+        }
+        return shape;
+    }
+
+    private static void revisions() {
+        StrikeStrip shop = new StrikeStrip();
+        shop.part(0, 100);
+        Check.refuses(shop, "a part that is not", INDEX, () -> shop.revise(1, 100));
+        Check.refuses(shop, "part -1", INDEX, () -> shop.revise(-1, 10));
+        Check.refuses(shop, "limit -1", ARGUMENT, () -> shop.revise(0, -1));
+        Check.refuses(shop, "limit 100", ARGUMENT, () -> shop.revise(0, 100));
+        Check.is("the first revision", shop.revise(0, 0), 1);
+        Check.is("the next one", shop.revise(0, 99), 2);
+        for (int i = 3; i <= 500; i++) {
+            Check.is("a later one", shop.revise(0, 20), i);
+        }
+        Check.is("stock of the last one", shop.stock(0, 500), 0);
+        Check.refuses(shop, "stock of the next one", INDEX, () -> shop.stock(0, 501));
+    }
+
+    /** Any shapes, against sets of cells that are moved one by one. */
+    private static void anyShapes() {
+        Random random = new Random(7);
+        for (int round = 0; round < 60; round++) {
+            boolean[][] shape = new boolean[8][8];
+            StrikeStrip shop = new StrikeStrip();
+            shop.part(0, 100);
+            for (int box = 1 + random.nextInt(4); box > 0; box--) {
+                drawAny(shop, shape, random);
+            }
+            int[][] cells = cells(shape);
+            int alone = leastAlone(cells);
+            int pair = leastPair(cells);
+            int rows = rows(cells) + 2;
+            Check.is("the pitch", shop.pitch(0, false), alone);
+            Check.is("the height", shop.height(0, false), rows);
+            Check.is("what is used", shop.used(0, false), 1000 * cells.length / (alone * rows));
+            Check.is("the pitch of the pair", shop.pitch(0, true), pair / 100);
+            Check.is("the height of the pair", shop.height(0, true), pair % 100);
+            Check.is("what the pair uses", shop.used(0, true), 2000 * cells.length / (pair / 100 * (pair % 100)));
+        }
+    }
+
+    private static void drawAny(StrikeStrip shop, boolean[][] shape, Random random) {
+        int x = random.nextInt(8);
+        int y = random.nextInt(8);
+        int columns = 1 + random.nextInt(Math.min(3, 8 - x));
+        int rows = 1 + random.nextInt(Math.min(3, 8 - y));
+        int count = 0;
+        for (int i = 0; i < 64; i++) {
+            int column = i % 8;
+            int row = i / 8;
+            shape[column][row] |= column >= x && column < x + columns && row >= y && row < y + rows;
+            count += shape[column][row] ? 1 : 0;
+        }
+        Check.is("the cells", shop.draw(0, x, y, columns, rows), count);
+    }
+
+    private static int[][] cells(boolean[][] shape) {
+        int[][] cells = new int[64][];
+        int count = 0;
+        for (int i = 0; i < 64; i++) {
+            if (shape[i % 8][i / 8]) {
+                cells[count++] = new int[] {i % 8, i / 8};
+            }
+        }
+        return java.util.Arrays.copyOf(cells, count);
+    }
+
+    private static int rows(int[][] cells) {
+        int first = 99;
+        int last = -99;
+        for (int[] cell : cells) {
+            first = Math.min(first, cell[1]);
+            last = Math.max(last, cell[1]);
+        }
+        return last - first + 1;
+    }
+
+    private static int leastAlone(int[][] cells) {
+        for (int pitch = 1;; pitch++) {
+            if (isClearAlong(cells, cells, pitch, 1)) {
+                return pitch;
+            }
+        }
+    }
+
+    /** The pitch of the pair taken times 100, and the height of its strip. */
+    private static int leastPair(int[][] cells) {
+        int best = 0;
+        int bestProduct = Integer.MAX_VALUE;
+        for (int columns = -10; columns <= 10; columns++) {
+            for (int rows = -10; rows <= 10; rows++) {
+                int[][] turned = new int[cells.length][];
+                int[][] both = java.util.Arrays.copyOf(cells, 2 * cells.length);
+                for (int i = 0; i < cells.length; i++) {
+                    turned[i] = new int[] {7 - cells[i][0] + columns, 7 - cells[i][1] + rows};
+                    both[cells.length + i] = turned[i];
+                }
+                if (!areClear(cells, turned, 0)) {
+                    continue;
+                }
+                int pitch = 1;
+                while (!isClearAlong(cells, cells, pitch, 1) || !isClearAlong(turned, turned, pitch, 1)
+                        || !isClearAlong(cells, turned, pitch, 1) || !isClearAlong(turned, cells, pitch, 1)) {
+                    pitch++;
+                }
+                int height = rows(both) + 2;
+                int product = pitch * height;
+                if (product < bestProduct || product == bestProduct && pitch < best / 100) {
+                    bestProduct = product;
+                    best = 100 * pitch + height;
+                }
+            }
+        }
+        return best;
+    }
+
+    private static boolean isClearAlong(int[][] one, int[][] other, int pitch, int first) {
+        for (int times = first; times * pitch <= 30; times++) {
+            if (!areClear(one, other, times * pitch)) {
+                return false;
+            }
+        }
+        return true;
+    }
+
+    private static boolean areClear(int[][] one, int[][] other, int moved) {
+        for (int[] cell : one) {
+            for (int[] next : other) {
+                if (Math.abs(next[0] + moved - cell[0]) < 2 && Math.abs(next[1] - cell[1]) < 2) {
+                    return false;
+                }
+            }
+        }
+        return true;
+    }
+}

@@ -1,0 +1,108 @@
+/** Promises 30 to 35. */
+final class ToolTest {
+    private static final Class<IllegalArgumentException> ARGUMENT = IllegalArgumentException.class;
+    private static final Class<IllegalStateException> STATE = IllegalStateException.class;
+    private static final Class<IndexOutOfBoundsException> INDEX = IndexOutOfBoundsException.class;
+    private static final Class<UnsupportedOperationException> UNSUPPORTED = UnsupportedOperationException.class;
+
+    public static void main(String[] args) {
+        sensors();
+        clearances();
+        regrinds();
+        burrs();
+        misfeeds();
+        manyMisfeeds();
+        Check.end();
+    }
+
+    private static void sensors() {
+        StrikeStrip shop = Shops.withDie(false);
+        Check.refuses(shop, "no die", INDEX, () -> shop.sensor(1, -1));
+        Check.refuses(shop, "die -1", INDEX, () -> shop.sensor(-1, 1));
+        Check.refuses(shop, "degree -1", ARGUMENT, () -> shop.sensor(0, -1));
+        Check.refuses(shop, "degree 360", ARGUMENT, () -> shop.sensor(0, 360));
+        Check.is("the first degree", shop.sensor(0, 0), 90);
+        Check.is("the least", shop.sensor(0, 359), 0);
+        Check.is("the greatest", shop.sensor(0, 90), 359);
+        shop.die(0, false);
+        Check.is("another die", shop.sensor(1, 3), 90);
+    }
+
+    private static void clearances() {
+        StrikeStrip shop = Shops.ready(1000);
+        Check.refuses(shop, "no die", INDEX, () -> shop.clearance(1, 0));
+        Check.refuses(shop, "clearance 0", ARGUMENT, () -> shop.clearance(0, 0));
+        Check.refuses(shop, "clearance 31", ARGUMENT, () -> shop.clearance(0, 31));
+        Check.is("the least", shop.clearance(0, 1), 7);
+        Check.is("the greatest", shop.clearance(0, 30), 22);
+        Check.is("the best", shop.clearance(0, 8), 0);
+        shop.run(0, 50);
+        Check.is("with wear", shop.clearance(0, 9), 2);
+    }
+
+    private static void regrinds() {
+        StrikeStrip shop = Shops.ready(100000);
+        Check.refuses(shop, "no die to grind", INDEX, () -> shop.regrind(1));
+        Check.refuses(shop, "no die with shims", INDEX, () -> shop.shims(-1));
+        Check.is("no shims", shop.shims(0), 0);
+        for (int i = 1; i <= 9; i++) {
+            Check.is("a run ahead of it", shop.run(0, 1), 1);
+            Check.is("the punches", shop.regrind(0), 5000 - 25 * i);
+            Check.is("the shims", shop.shims(0), 25 * i);
+        }
+        Check.refuses(shop, "worn out", UNSUPPORTED, () -> shop.regrind(0));
+        Check.refuses(shop, "a run of what is worn out", STATE, () -> shop.run(0, 1));
+        Check.is("it may be in", shop.change(0), 0);
+        Check.is("its strokes", shop.strokes(0), 9);
+    }
+
+    private static void burrs() {
+        StrikeStrip shop = Shops.ready(100000);
+        Check.refuses(shop, "no die", INDEX, () -> shop.burr(1));
+        Check.refuses(shop, "die -1", INDEX, () -> shop.burr(-1));
+        Check.is("none at first", shop.burr(0), 0);
+        shop.run(0, 49);
+        Check.is("behind 49", shop.burr(0), 0);
+        shop.run(0, 1);
+        Check.is("behind 50", shop.burr(0), 1);
+        shop.run(0, 60);
+        Check.is("behind 110", shop.burr(0), 2);
+        shop.clearance(0, 5);
+        Check.is("with a clearance", shop.burr(0), 5);
+        shop.regrind(0);
+        Check.is("reground", shop.burr(0), 3);
+        Check.is("its strokes stay", shop.strokes(0), 110);
+    }
+
+    private static void misfeeds() {
+        StrikeStrip shop = Shops.ready(1000);
+        Check.refuses(shop, "no die", INDEX, () -> shop.misfeed(1, -1));
+        Check.refuses(shop, "stroke -1", ARGUMENT, () -> shop.misfeed(0, -1));
+        Check.refuses(shop, "stroke 100000", ARGUMENT, () -> shop.misfeed(0, 100000));
+        Check.is("the greatest", shop.misfeed(0, 99999), 1);
+        Check.is("the least", shop.misfeed(0, 0), 2);
+        Check.refuses(shop, "told", ARGUMENT, () -> shop.misfeed(0, 0));
+        Check.refuses(shop, "told, too", ARGUMENT, () -> shop.misfeed(0, 99999));
+        Check.is("a later one", shop.misfeed(0, 9), 3);
+        Check.is("the run of the first", shop.run(0, 5), 0);
+        Check.is("its strokes", shop.strokes(0), 1);
+        Check.refuses(shop, "a stroke that was made", ARGUMENT, () -> shop.misfeed(0, 0));
+        Check.is("the first one is over", shop.misfeed(0, 1), 3);
+        shop.die(0, false);
+        Check.is("another die", shop.misfeed(1, 0), 1);
+        Check.is("and one more", shop.misfeed(1, 1), 2);
+    }
+
+    private static void manyMisfeeds() {
+        StrikeStrip shop = Shops.ready(100000);
+        for (int i = 0; i < 400; i++) {
+            Check.is("in any order", shop.misfeed(0, i * 7 % 400 * 2), i + 1);
+        }
+        for (int i = 0; i < 50; i++) {
+            Check.is("each second stroke", shop.run(0, 600), i == 0 ? 0 : 1);
+            Check.is("ended by it", shop.ended(), 'm');
+            Check.is("as many strokes", shop.strokes(0), 2 * i + 1);
+        }
+        Check.is("the others are to come", shop.misfeed(0, 99), 351);
+    }
+}

@@ -1,0 +1,220 @@
+import java.util.Random;
+
+/** Promises 20 to 25. */
+final class WorkTest {
+    private static final Class<IllegalArgumentException> ARGUMENT = IllegalArgumentException.class;
+    private static final Class<IllegalStateException> STATE = IllegalStateException.class;
+    private static final Class<IndexOutOfBoundsException> INDEX = IndexOutOfBoundsException.class;
+    private static final Class<UnsupportedOperationException> UNSUPPORTED = UnsupportedOperationException.class;
+
+    public static void main(String[] args) {
+        dies();
+        works();
+        behind();
+        apart();
+        stations();
+        anyStations();
+        Check.end();
+    }
+
+    private static void dies() {
+        StrikeStrip shop = new StrikeStrip();
+        Check.refuses(shop, "no part", INDEX, () -> shop.die(0, false));
+        shop.part(0, 100);
+        Check.refuses(shop, "part -1", INDEX, () -> shop.die(-1, true));
+        Check.refuses(shop, "an empty shape", UNSUPPORTED, () -> shop.die(0, false));
+        shop.draw(0, 0, 0, 1, 1);
+        shop.part(1, 100);
+        for (int i = 0; i < 8; i++) {
+            Check.is("the number of a die", shop.die(0, i % 2 == 0), i);
+        }
+        Check.refuses(shop, "a 9th die", STATE, () -> shop.die(0, false));
+        Check.refuses(shop, "a 9th die of an empty shape", UNSUPPORTED, () -> shop.die(1, false));
+        Check.refuses(shop, "a 9th die of no part", INDEX, () -> shop.die(2, false));
+    }
+
+    private static void works() {
+        StrikeStrip shop = Shops.withDie(false);
+        Check.refuses(shop, "no die", INDEX, () -> shop.work(1, 0, 90, 0));
+        Check.refuses(shop, "die -1", INDEX, () -> shop.work(-1, 1, 90, 0));
+        int[][] wrong = {{0, 90, 0}, {401, 90, 0}, {1, 89, 0}, {1, 181, 0}, {1, 90, -100}, {1, 90, 100}};
+        for (int[] work : wrong) {
+            Check.refuses(shop, "a work", ARGUMENT, () -> shop.work(0, work[0], work[1], work[2]));
+        }
+        for (int i = 0; i < 8; i++) {
+            boolean isLeast = i % 2 == 0;
+            int place = isLeast ? -99 : 99;
+            Check.is("the number of a work", shop.work(0, isLeast ? 1 : 400, isLeast ? 90 : 180, place), i);
+        }
+        Check.refuses(shop, "a 9th work", STATE, () -> shop.work(0, 1, 90, 0));
+        Check.refuses(shop, "a wrong 9th work", ARGUMENT, () -> shop.work(0, 1, 90, 100));
+        shop.die(0, false);
+        Check.is("the first work of another die", shop.work(1, 1, 90, 0), 0);
+    }
+
+    private static void behind() {
+        StrikeStrip shop = withWorks(4, 1);
+        Check.refuses(shop, "no die", INDEX, () -> shop.behind(1, 0, 0));
+        Check.refuses(shop, "no later work", INDEX, () -> shop.behind(0, 4, 0));
+        Check.refuses(shop, "no earlier work", INDEX, () -> shop.behind(0, 0, -1));
+        Check.refuses(shop, "the same work that is not", INDEX, () -> shop.behind(0, 4, 4));
+        Check.refuses(shop, "the same", UNSUPPORTED, () -> shop.behind(0, 1, 1));
+        Check.is("behind one", shop.behind(0, 2, 1), 1);
+        Check.is("behind it again", shop.behind(0, 2, 1), 1);
+        Check.is("one behind it", shop.behind(0, 3, 2), 1);
+        Check.refuses(shop, "in a ring", UNSUPPORTED, () -> shop.behind(0, 1, 2));
+        Check.refuses(shop, "in a ring over others", UNSUPPORTED, () -> shop.behind(0, 1, 3));
+        Check.is("behind it over others, and itself", shop.behind(0, 3, 1), 2);
+        Check.is("the first one behind the last", shop.behind(0, 0, 3), 1);
+        Check.refuses(shop, "in a ring of all", UNSUPPORTED, () -> shop.behind(0, 1, 0));
+        Check.is("stations", shop.stations(0), 4);
+        Check.is("the last station", shop.stationOf(0, 0), 3);
+    }
+
+    private static void apart() {
+        StrikeStrip shop = withWorks(3, 1);
+        Check.refuses(shop, "no die", INDEX, () -> shop.apart(-1, 0, 0) ? 1 : 0);
+        Check.refuses(shop, "no work", INDEX, () -> shop.apart(0, 3, 3) ? 1 : 0);
+        Check.refuses(shop, "no other work", INDEX, () -> shop.apart(0, 0, -1) ? 1 : 0);
+        Check.refuses(shop, "the same", UNSUPPORTED, () -> shop.apart(0, 2, 2) ? 1 : 0);
+        Check.is("one station", shop.stations(0), 1);
+        Check.isTrue("apart", shop.apart(0, 2, 0));
+        Check.isFalse("apart already", shop.apart(0, 0, 2));
+        Check.isFalse("apart already, again", shop.apart(0, 2, 0));
+        Check.is("two stations", shop.stations(0), 2);
+        Check.is("the first one earlier", shop.stationOf(0, 0), 0);
+        Check.is("the last one later", shop.stationOf(0, 2), 1);
+        shop.behind(0, 0, 2);
+        Check.is("now behind it", shop.stationOf(0, 0), 1);
+    }
+
+    private static void stations() {
+        StrikeStrip shop = Shops.withDie(false);
+        Check.refuses(shop, "no die", INDEX, () -> shop.stations(1));
+        Check.refuses(shop, "no die for a work", INDEX, () -> shop.stationOf(1, 0));
+        Check.is("no works", shop.stations(0), 0);
+        Check.refuses(shop, "no work", INDEX, () -> shop.stationOf(0, 0));
+        shop.work(0, 250, 90, 0);
+        Check.is("one work", shop.stations(0), 1);
+        Check.refuses(shop, "work -1", INDEX, () -> shop.stationOf(0, -1));
+        shop.work(0, 250, 90, 0);
+        Check.is("500 tons", shop.stations(0), 1);
+        shop.work(0, 1, 90, 0);
+        Check.is("501 tons", shop.stations(0), 2);
+        Check.is("the earlier ones first", shop.stationOf(0, 2), 1);
+        Check.isTrue("sound", shop.isSound());
+        StrikeStrip full = withWorks(8, 400);
+        Check.is("each alone", full.stations(0), 8);
+        Check.is("the last one", full.stationOf(0, 7), 7);
+    }
+
+    /** Any works, against all ways counted up one by one. */
+    private static void anyStations() {
+        Random random = new Random(5);
+        for (int round = 0; round < 1500; round++) {
+            int count = random.nextInt(9);
+            int heavy = 50 + random.nextInt(351);
+            StrikeStrip shop = Shops.withDie(false);
+            int[] forces = new int[count];
+            boolean[][] behind = new boolean[count][count];
+            boolean[][] apart = new boolean[count][count];
+            for (int i = 0; i < count; i++) {
+                forces[i] = 1 + random.nextInt(heavy);
+                shop.work(0, forces[i], 90, 0);
+            }
+            int rules = count < 2 ? 0 : random.nextInt(count * 2);
+            for (int i = 0; i < rules; i++) {
+                int one = random.nextInt(count);
+                int other = random.nextInt(count);
+                if (random.nextInt(3) == 0 && one != other) {
+                    Check.is("apart", shop.apart(0, one, other) ? 1 : 0, apart[one][other] ? 0 : 1);
+                    apart[one][other] = true;
+                    apart[other][one] = true;
+                } else if (putBehind(shop, one, other, leadsTo(behind, one, other))) {
+                    behind[one][other] = true;
+                }
+            }
+            int[] due = new int[count];
+            int fewest = fewest(forces, behind, apart, due);
+            Check.is("the fewest stations", shop.stations(0), fewest);
+            for (int i = 0; i < count; i++) {
+                Check.is("a station", shop.stationOf(0, i), due[i]);
+            }
+            Check.isTrue("sound", shop.isSound());
+        }
+    }
+
+    private static boolean putBehind(StrikeStrip shop, int later, int earlier, boolean isRing) {
+        try {
+            shop.behind(0, later, earlier);
+            Check.isFalse("put in a ring", isRing);
+            return true;
+        } catch (UnsupportedOperationException e) {
+            Check.isTrue("refused without a ring", isRing);
+            return false;
+        }
+    }
+
+    private static boolean leadsTo(boolean[][] behind, int to, int from) {
+        if (from == to) {
+            return true;
+        }
+        for (int next = 0; next < behind.length; next++) {
+            if (behind[from][next] && leadsTo(behind, to, next)) {
+                return true;
+            }
+        }
+        return false;
+    }
+
+    private static int fewest(int[] forces, boolean[][] behind, boolean[][] apart, int[] ways) {
+        for (int stations = 0;; stations++) {
+            if (count(forces, behind, apart, ways, 0, stations)) {
+                return stations;
+            }
+        }
+    }
+
+    private static boolean count(int[] forces, boolean[][] behind, boolean[][] apart, int[] way, int work,
+            int stations) {
+        if (work == way.length) {
+            return isGood(forces, behind, apart, way, stations);
+        }
+        for (way[work] = 0; way[work] < stations; way[work]++) {
+            boolean isHopeless = false;
+            for (int i = 0; i < work; i++) {
+                isHopeless |= apart[i][work] && way[i] == way[work];
+                isHopeless |= behind[i][work] && way[i] <= way[work] || behind[work][i] && way[work] <= way[i];
+                isHopeless |= forces[i] + forces[work] > 500 && way[i] == way[work];
+            }
+            if (!isHopeless && count(forces, behind, apart, way, work + 1, stations)) {
+                return true;
+            }
+        }
+        return false;
+    }
+
+    private static boolean isGood(int[] forces, boolean[][] behind, boolean[][] apart, int[] way, int stations) {
+        int[] loads = new int[stations];
+        for (int i = 0; i < way.length; i++) {
+            loads[way[i]] += forces[i];
+            if (loads[way[i]] > 500) {
+                return false;
+            }
+            for (int j = 0; j < way.length; j++) {
+                if (behind[i][j] && way[i] <= way[j] || apart[i][j] && way[i] == way[j]) {
+                    return false;
+                }
+            }
+        }
+        return true;
+    }
+
+    private static StrikeStrip withWorks(int count, int force) {
+        StrikeStrip shop = Shops.withDie(false);
+        for (int i = 0; i < count; i++) {
+            shop.work(0, force, 180, 0);
+        }
+        return shop;
+    }
+}
