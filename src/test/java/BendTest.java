@@ -13,6 +13,7 @@ final class BendTest {
     public static void main(String[] args) {
         profiles();
         orders();
+        longest();
         lengths();
         anyProfiles();
         Check.end();
@@ -67,6 +68,18 @@ final class BendTest {
         for (int i = 0; i < 4; i++) {
             Check.is("the last bend ahead of the third", shop.bendAt(i), due[i]);
         }
+    }
+
+    private static void longest() {
+        StrikeStrip shop = new StrikeStrip();
+        shop.profile(9);
+        for (int i = 0; i < 6; i++) {
+            shop.bend(i % 2 == 0, 9);
+        }
+        for (int i = 0; i < 6; i++) {
+            Check.is("the order of a stair", shop.bendAt(i), i);
+        }
+        Check.is("its length", shop.unfolded(0, 20), 6300 + 6 * 12);
     }
 
     private static void lengths() {

@@ -33,15 +33,35 @@ final class CupTest {
         Check.is("four, annealed", shop.draws(50, 200, true), 4);
         Check.is("as wide as the cup", shop.draws(999, 0, true), 0);
         Check.is("one", shop.draws(999, 1, false), 1);
-        // 10 by 5.8 is 18 wide and then 10: one draw; 19 becomes 11 and then 9.
-        Check.is("just one", shop.draws(10, 5, false), 1);
-        Check.is("one more", shop.draws(10, 6, false), 2);
+        // Both discs are 100 wide: 55 is what a draw bears, 54 is not.
+        Check.is("just one", shop.draws(55, 31, false), 1);
+        Check.is("one more", shop.draws(54, 32, false), 2);
+        // A disc of 200 becomes 110, and then 86 or, annealed, 77.
+        Check.is("86 by two", shop.draws(86, 94, false), 2);
+        Check.is("85 by three", shop.draws(85, 96, false), 3);
+        Check.is("77 by two, annealed", shop.draws(77, 110, true), 2);
+        Check.is("76 by three, annealed", shop.draws(76, 112, true), 3);
         // 3, 2, 1: each narrower by 1 at least.
         Check.is("by one", shop.draws(1, 2, false), 2);
-        // 46: 26, 21, 17, 14, 11, 9, 8, 7, 6, 5, 4, 3, 2, 1.
+        // 45: 25, 20, 16, 13, 11, 9, 8, 7, 6, 5, 4, 3, 2, 1.
         Check.is("by one, at last", shop.draws(1, 500, false), 14);
-        // 46: 26, 19 (70), 15, 12, 10, 8, 7, 6, 5, 4, 3, 2, 1.
-        Check.is("the second one alone is annealed", shop.draws(1, 500, true), 13);
+        for (int diameter = 1; diameter <= 999; diameter += 4) {
+            for (int height = 0; height <= 999; height += 9) {
+                int wide = shop.disc(diameter, height);
+                Check.is("draws", shop.draws(diameter, height, false), counted(wide, diameter, 78));
+                Check.is("draws, annealed", shop.draws(diameter, height, true), counted(wide, diameter, 70));
+            }
+        }
+    }
+
+    private static int counted(int disc, int diameter, int second) {
+        int draws = 0;
+        for (int wide = disc; wide > diameter; draws++) {
+            int hundredths = wide * (draws == 0 ? 55 : draws == 1 ? second : 78);
+            int least = hundredths / 100 + (hundredths % 100 == 0 ? 0 : 1);
+            wide = least < wide ? least : wide - 1;
+        }
+        return draws;
     }
 
     private static void refusals() {

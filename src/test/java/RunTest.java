@@ -232,6 +232,19 @@ final class RunTest {
         Check.is("what is left", shop.left(0), 6);
         Check.is("weight of it", shop.weight(0), 15L * 3 * (110 + 111) * 785 / 10000);
         Check.isTrue("sound", shop.isSound());
+        StrikeStrip all = Shops.ready(10);
+        for (int i = 1; i < 12; i++) {
+            all.coil(0, 100 + i, 15, 10);
+            all.weld(0, i);
+        }
+        long scrap = 0;
+        for (int i = 0; i < 12; i++) {
+            scrap += (150L - 25) * (100 + i) * 785;
+        }
+        Check.is("a stretch each stroke", all.run(0, 12), 12);
+        Check.is("the scrap of all", all.scrap(0), scrap / 10000);
+        Check.is("all are used up", all.left(0), 0);
+        Check.isTrue("sound to the end", all.isSound());
     }
 
     private static void pairsAndScrap() {

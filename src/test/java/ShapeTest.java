@@ -15,6 +15,7 @@ final class ShapeTest {
         emptyShapes();
         corners();
         pairs();
+        ties();
         revisions();
         anyShapes();
         Check.end();
@@ -107,6 +108,21 @@ final class ShapeTest {
         Check.is("two bars lie above each other: 38 is less than 40", shop.height(2, true), 19);
         shop.draw(2, 0, 0, 8, 1);
         Check.is("drawn on, it is laid anew", shop.pitch(2, true), leastPair(cells(twoSides())) / 100);
+    }
+
+    /** Of pairs with the same product, that with the least pitch is taken. */
+    private static void ties() {
+        StrikeStrip shop = new StrikeStrip();
+        shop.part(0, 100);
+        shop.draw(0, 0, 4, 5, 1);
+        shop.draw(0, 4, 6, 1, 2);
+        Check.is("6 by 8, not 8 by 6", shop.pitch(0, true), 6);
+        Check.is("the height of it", shop.height(0, true), 8);
+        shop.part(0, 100);
+        shop.draw(1, 1, 3, 2, 1);
+        shop.draw(1, 7, 3, 1, 2);
+        Check.is("8 by 5, not 10 by 4", shop.pitch(1, true), 8);
+        Check.is("the height of that", shop.height(1, true), 5);
     }
 
     private static boolean[][] twoSides() {

@@ -57,6 +57,8 @@ final class WorkTest {
         Check.refuses(shop, "no die", INDEX, () -> shop.behind(1, 0, 0));
         Check.refuses(shop, "no later work", INDEX, () -> shop.behind(0, 4, 0));
         Check.refuses(shop, "no earlier work", INDEX, () -> shop.behind(0, 0, -1));
+        Check.refuses(shop, "an earlier work behind the last", INDEX, () -> shop.behind(0, 0, 4));
+        Check.refuses(shop, "a later work ahead of the first", INDEX, () -> shop.behind(0, -1, 0));
         Check.refuses(shop, "the same work that is not", INDEX, () -> shop.behind(0, 4, 4));
         Check.refuses(shop, "the same", UNSUPPORTED, () -> shop.behind(0, 1, 1));
         Check.is("behind one", shop.behind(0, 2, 1), 1);
@@ -76,6 +78,9 @@ final class WorkTest {
         Check.refuses(shop, "no die", INDEX, () -> shop.apart(-1, 0, 0) ? 1 : 0);
         Check.refuses(shop, "no work", INDEX, () -> shop.apart(0, 3, 3) ? 1 : 0);
         Check.refuses(shop, "no other work", INDEX, () -> shop.apart(0, 0, -1) ? 1 : 0);
+        Check.refuses(shop, "another work behind the last", INDEX, () -> shop.apart(0, 0, 3) ? 1 : 0);
+        Check.refuses(shop, "a work behind the last", INDEX, () -> shop.apart(0, 3, 0) ? 1 : 0);
+        Check.refuses(shop, "a work ahead of the first", INDEX, () -> shop.apart(0, -1, 0) ? 1 : 0);
         Check.refuses(shop, "the same", UNSUPPORTED, () -> shop.apart(0, 2, 2) ? 1 : 0);
         Check.is("one station", shop.stations(0), 1);
         Check.isTrue("apart", shop.apart(0, 2, 0));
