@@ -1208,6 +1208,9 @@ public final class StrikeStrip {
         private final int[] apartFrom = new int[WORKS];
         final int[] station = new int[WORKS];
         int fewest;
+        /** The forces of each station as they are being shared out, and a bit for each of its works. */
+        private final int[] loads = new int[WORKS];
+        private final int[] held = new int[WORKS];
         private boolean isSettled = true;
 
         void add(int force, int degree, int place) {
@@ -1252,6 +1255,8 @@ public final class StrikeStrip {
         void settle() {
             for (int stations = 0; stations <= count && !isSettled; stations++) {
                 fewest = stations;
+                Arrays.fill(loads, 0);
+                Arrays.fill(held, 0);
                 isSettled = share(this, 0);
             }
         }
@@ -1261,43 +1266,84 @@ public final class StrikeStrip {
             if (work >= works.count) {
                 return true;
             }
-            for (int station = 0; station < works.fewest; station++) {
-                works.station[work] = station;
-                if (works.fits(work) && share(works, work + 1)) {
-                    return true;
+            int last = works.lastFor(work);
+            for (int at = works.firstFor(work); at <= last; at++) {
+                if (works.hasRoom(work, at)) {
+                    works.put(work, at);
+                    if (share(works, work + 1)) {
+                        return true;
+                    }
+                    works.take(work, at);
                 }
             }
             return false;
         }
 
-        /** Whether the station of a work goes with those of all works with lower numbers. */
-        private boolean fits(int work) {
-            int force = forces[work];
+        /** The first station behind those of the works with lower numbers that this one is behind. */
+        private int firstFor(int work) {
+            int first = 0;
             for (int other = 0; other < work; other++) {
-                if (clashes(work, other) || clashes(other, work)) {
-                    return false;
-                }
-                if (station[other] == station[work]) {
-                    force += forces[other];
+                if (hasBit(ahead[work], other)) {
+                    first = Math.max(first, station[other] + 1);
                 }
             }
-            return force <= STATION_FORCE;
+            return first;
         }
 
-        private boolean clashes(int work, int other) {
-            return hasBit(ahead[work], other) && station[work] <= station[other]
-                    || hasBit(apartFrom[work], other) && station[work] == station[other];
+        private int lastFor(int work) {
+            int last = fewest - 1;
+            for (int other = 0; other < work; other++) {
+                if (hasBit(ahead[other], work)) {
+                    last = Math.min(last, station[other] - 1);
+                }
+            }
+            return last;
+        }
+
+        private boolean hasRoom(int work, int at) {
+            return loads[at] + forces[work] <= STATION_FORCE && (held[at] & apartFrom[work]) == 0;
+        }
+
+        private void put(int work, int at) {
+            station[work] = at;
+            loads[at] += forces[work];
+            held[at] |= 1 << work;
+        }
+
+        private void take(int work, int at) {
+            loads[at] -= forces[work];
+            held[at] &= ~(1 << work);
         }
 
         /** No fewer would do once they are settled, as all fewer ones were tried ahead of these. */
         boolean isAsTold() {
             settle();
             for (int work = 0; work < count; work++) {
-                if (station[work] >= fewest || !fits(work)) {
+                if (!isWithin(station[work], 0, fewest - 1) || forceAt(station[work]) > STATION_FORCE) {
                     return false;
+                }
+                for (int other = 0; other < count; other++) {
+                    if (clashes(work, other)) {
+                        return false;
+                    }
                 }
             }
             return isSettled;
+        }
+
+        private int forceAt(int at) {
+            int force = 0;
+            for (int work = 0; work < count; work++) {
+                if (station[work] == at) {
+                    force += forces[work];
+                }
+            }
+            return force;
+        }
+
+        private boolean clashes(int work, int other) {
+            return hasBit(ahead[work], other) && station[work] <= station[other]
+                    || hasBit(apartFrom[work], other) && station[work] == station[other];
         }
 
         boolean suits(int degree, int borne) {
