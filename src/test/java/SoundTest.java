@@ -1,0 +1,53 @@
+import java.lang.reflect.Array;
+import java.lang.reflect.Field;
+
+/**
+ * Promise 51, the other answer: no run of calls leads to a shop that is not sound, so that these shops are spoilt
+ * from behind.
+ */
+final class SoundTest {
+    public static void main(String[] args) throws Exception {
+        for (String kind : new String[] {"bought", "good", "scrap", "sold"}) {
+            for (int alloy = 0; alloy < 4; alloy++) {
+                StrikeStrip shop = shop();
+                long[] weights = (long[]) read(read(shop, "metal"), kind);
+                weights[alloy]++;
+                Check.isFalse("with more " + kind, shop.isSound());
+                weights[alloy]--;
+                Check.isTrue("with as much " + kind, shop.isSound());
+            }
+        }
+        StrikeStrip cut = shop();
+        int[] lengths = (int[]) read(Array.get(read(cut, "coils"), 0), "lengths");
+        lengths[0]--;
+        Check.isFalse("with less of a coil", cut.isSound());
+        int[][] wrong = {{1, 0, 1}, {0, 0, 1}, {0, 1, 0}, {0, 2, 1}, {0, 1, 2}, {-1, 1, 1}};
+        for (int[] stations : wrong) {
+            StrikeStrip shop = shop();
+            int[] told = (int[]) read(read(Array.get(read(shop, "dies"), 1), "works"), "station");
+            System.arraycopy(stations, 0, told, 0, 3);
+            Check.isFalse("with other stations", shop.isSound());
+        }
+        Check.end();
+    }
+
+    /** The second die has works of 300, 300 and 150 tons; the second one is behind the first, the third apart. */
+    private static StrikeStrip shop() {
+        StrikeStrip shop = Shops.ready(1000);
+        shop.run(0, 10);
+        shop.die(0, true);
+        shop.work(1, 300, 180, 0);
+        shop.work(1, 300, 180, 0);
+        shop.work(1, 150, 180, 0);
+        shop.behind(1, 1, 0);
+        shop.apart(1, 2, 0);
+        Check.isTrue("a shop as it is", shop.isSound());
+        return shop;
+    }
+
+    private static Object read(Object owner, String name) throws Exception {
+        Field field = owner.getClass().getDeclaredField(name);
+        field.setAccessible(true);
+        return field.get(owner);
+    }
+}
