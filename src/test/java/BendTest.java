@@ -21,22 +21,22 @@ final class BendTest {
 
     private static void profiles() {
         StrikeStrip shop = new StrikeStrip();
-        Check.refuses(shop, "a bend ahead of a profile", STATE, () -> shop.bend(true, 1));
-        Check.refuses(shop, "a wrong one", ARGUMENT, () -> shop.bend(true, 0));
-        Check.refuses(shop, "an order ahead of a profile", INDEX, () -> shop.bendAt(0));
-        Check.refuses(shop, "length 0", ARGUMENT, () -> shop.profile(0));
-        Check.refuses(shop, "length 10", ARGUMENT, () -> shop.profile(10));
+        Check.refuses("a bend ahead of a profile", STATE, () -> shop.bend(true, 1));
+        Check.refuses("a wrong one", ARGUMENT, () -> shop.bend(true, 0));
+        Check.refuses("an order ahead of a profile", INDEX, () -> shop.bendAt(0));
+        Check.refuses("length 0", ARGUMENT, () -> shop.profile(0));
+        Check.refuses("length 10", ARGUMENT, () -> shop.profile(10));
         Check.is("the first profile", shop.profile(1), 0);
-        Check.refuses(shop, "an order of no bends", INDEX, () -> shop.bendAt(0));
+        Check.refuses("an order of no bends", INDEX, () -> shop.bendAt(0));
         Check.is("the next one", shop.profile(9), 0);
-        Check.refuses(shop, "stretch 0", ARGUMENT, () -> shop.bend(false, 0));
-        Check.refuses(shop, "stretch 10", ARGUMENT, () -> shop.bend(false, 10));
+        Check.refuses("stretch 0", ARGUMENT, () -> shop.bend(false, 0));
+        Check.refuses("stretch 10", ARGUMENT, () -> shop.bend(false, 10));
         for (int i = 1; i <= 6; i++) {
             Check.is("a bend", shop.bend(i % 2 == 0, i % 2 == 0 ? 9 : 1), i);
         }
-        Check.refuses(shop, "a 7th bend", STATE, () -> shop.bend(true, 1));
-        Check.refuses(shop, "a wrong 7th bend", ARGUMENT, () -> shop.bend(true, 10));
-        Check.refuses(shop, "a wrong profile", ARGUMENT, () -> shop.profile(-1));
+        Check.refuses("a 7th bend", STATE, () -> shop.bend(true, 1));
+        Check.refuses("a wrong 7th bend", ARGUMENT, () -> shop.bend(true, 10));
+        Check.refuses("a wrong profile", ARGUMENT, () -> shop.profile(-1));
         Check.is("a profile behind that one", shop.profile(1), 6);
         Check.is("and one behind it", shop.profile(1), 0);
     }
@@ -48,9 +48,9 @@ final class BendTest {
         Check.is("one bend", shop.bendAt(0), 0);
         shop.bend(true, 3);
         shop.bend(true, 3);
-        Check.refuses(shop, "no good order", NONE, () -> shop.bendAt(0));
-        Check.refuses(shop, "behind the last bend", INDEX, () -> shop.bendAt(3));
-        Check.refuses(shop, "ahead of the first one", INDEX, () -> shop.bendAt(-1));
+        Check.refuses("no good order", NONE, () -> shop.bendAt(0));
+        Check.refuses("behind the last bend", INDEX, () -> shop.bendAt(3));
+        Check.refuses("ahead of the first one", INDEX, () -> shop.bendAt(-1));
         shop.profile(2);
         shop.bend(true, 1);
         shop.bend(true, 1);
@@ -84,8 +84,8 @@ final class BendTest {
 
     private static void lengths() {
         StrikeStrip shop = new StrikeStrip();
-        Check.refuses(shop, "unfolded ahead of a profile", STATE, () -> shop.unfolded(0, 20));
-        Check.refuses(shop, "and with a wrong number", ARGUMENT, () -> shop.unfolded(0, 19));
+        Check.refuses("unfolded ahead of a profile", STATE, () -> shop.unfolded(0, 20));
+        Check.refuses("and with a wrong number", ARGUMENT, () -> shop.unfolded(0, 19));
         shop.profile(4);
         Check.is("a flat one", shop.unfolded(999, 600), 400);
         shop.bend(true, 9);
@@ -94,10 +94,10 @@ final class BendTest {
         Check.is("the fifth is rounded down", shop.unfolded(1, 22), 1300 + 14);
         shop.bend(false, 1);
         Check.is("two bends, each rounded down", shop.unfolded(100, 100), 1400 + 2 * 219);
-        Check.refuses(shop, "radius -1", ARGUMENT, () -> shop.unfolded(-1, 100));
-        Check.refuses(shop, "radius 1000", ARGUMENT, () -> shop.unfolded(1000, 100));
-        Check.refuses(shop, "thickness 19", ARGUMENT, () -> shop.unfolded(0, 19));
-        Check.refuses(shop, "thickness 601", ARGUMENT, () -> shop.unfolded(0, 601));
+        Check.refuses("radius -1", ARGUMENT, () -> shop.unfolded(-1, 100));
+        Check.refuses("radius 1000", ARGUMENT, () -> shop.unfolded(1000, 100));
+        Check.refuses("thickness 19", ARGUMENT, () -> shop.unfolded(0, 19));
+        Check.refuses("thickness 601", ARGUMENT, () -> shop.unfolded(0, 601));
     }
 
     /** Any profiles, against all orders tried by rising numbers. */
@@ -121,7 +121,7 @@ final class BendTest {
             int[] order = new int[bends];
             if (!find(lengths, areLeft, order, 0, 0)) {
                 without++;
-                Check.refuses(shop, "no order", NONE, () -> shop.bendAt(bends - 1));
+                Check.refuses("no order", NONE, () -> shop.bendAt(bends - 1));
                 continue;
             }
             for (int i = 0; i < bends; i++) {

@@ -18,23 +18,23 @@ final class CallTest {
 
     private static void refusals() {
         StrikeStrip shop = Shops.ready(1000);
-        Check.refuses(shop, "no part", INDEX, () -> shop.call(1, 0, 0));
-        Check.refuses(shop, "part -1", INDEX, () -> shop.call(-1, 1, 100));
-        Check.refuses(shop, "count 0", ARGUMENT, () -> shop.call(0, 0, 100));
-        Check.refuses(shop, "count 201", ARGUMENT, () -> shop.call(0, 201, 100));
-        Check.refuses(shop, "now", ARGUMENT, () -> shop.call(0, 1, 28));
-        Check.refuses(shop, "ahead of now", ARGUMENT, () -> shop.call(0, 1, -1));
+        Check.refuses("no part", INDEX, () -> shop.call(1, 0, 0));
+        Check.refuses("part -1", INDEX, () -> shop.call(-1, 1, 100));
+        Check.refuses("count 0", ARGUMENT, () -> shop.call(0, 0, 100));
+        Check.refuses("count 201", ARGUMENT, () -> shop.call(0, 201, 100));
+        Check.refuses("now", ARGUMENT, () -> shop.call(0, 1, 28));
+        Check.refuses("ahead of now", ARGUMENT, () -> shop.call(0, 1, -1));
         Check.is("the next minute", shop.call(0, 1, 29), 1);
         Check.is("the last minute of all", shop.call(0, 200, Integer.MAX_VALUE), 2);
-        Check.refuses(shop, "0 minutes", ARGUMENT, () -> shop.pass(0));
-        Check.refuses(shop, "1001 minutes", ARGUMENT, () -> shop.pass(1001));
-        Check.refuses(shop, "-1 minutes", ARGUMENT, () -> shop.pass(-1));
-        Check.refuses(shop, "delivered of no part", INDEX, () -> shop.delivered(1));
-        Check.refuses(shop, "missed of no part", INDEX, () -> shop.missed(1));
-        Check.refuses(shop, "racks of no part", INDEX, () -> shop.racks(1));
-        Check.refuses(shop, "delivered of part -1", INDEX, () -> shop.delivered(-1));
-        Check.refuses(shop, "missed of part -1", INDEX, () -> shop.missed(-1));
-        Check.refuses(shop, "racks of part -1", INDEX, () -> shop.racks(-1));
+        Check.refuses("0 minutes", ARGUMENT, () -> shop.pass(0));
+        Check.refuses("1001 minutes", ARGUMENT, () -> shop.pass(1001));
+        Check.refuses("-1 minutes", ARGUMENT, () -> shop.pass(-1));
+        Check.refuses("delivered of no part", INDEX, () -> shop.delivered(1));
+        Check.refuses("missed of no part", INDEX, () -> shop.missed(1));
+        Check.refuses("racks of no part", INDEX, () -> shop.racks(1));
+        Check.refuses("delivered of part -1", INDEX, () -> shop.delivered(-1));
+        Check.refuses("missed of part -1", INDEX, () -> shop.missed(-1));
+        Check.refuses("racks of part -1", INDEX, () -> shop.racks(-1));
     }
 
     private static void forty() {
@@ -43,11 +43,11 @@ final class CallTest {
         for (int i = 0; i < 40; i++) {
             Check.is("calls to come", shop.call(i % 2, 1, 1 + i), i + 1);
         }
-        Check.refuses(shop, "a 41st", STATE, () -> shop.call(0, 1, 50));
-        Check.refuses(shop, "a wrong 41st", ARGUMENT, () -> shop.call(0, 1, 0));
+        Check.refuses("a 41st", STATE, () -> shop.call(0, 1, 50));
+        Check.refuses("a wrong 41st", ARGUMENT, () -> shop.call(0, 1, 0));
         shop.pass(1);
         Check.is("one came", shop.call(0, 1, 50), 40);
-        Check.refuses(shop, "full again", STATE, () -> shop.call(0, 1, 50));
+        Check.refuses("full again", STATE, () -> shop.call(0, 1, 50));
         Check.is("all but those of the minute 50", shop.pass(48), 49);
         Check.is("missed by the first part", shop.missed(0), 20);
         Check.is("missed by the second part", shop.missed(1), 20);

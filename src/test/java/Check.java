@@ -36,9 +36,8 @@ final class Check {
         }
     }
 
-    /** The call throws just this exception, and changes nothing that shows. */
-    static void refuses(StrikeStrip shop, String what, Class<? extends RuntimeException> due, LongSupplier call) {
-        String before = Look.at(shop);
+    /** The call throws just this exception; that it changes nothing is what RefusedTest is for. */
+    static void refuses(String what, Class<? extends RuntimeException> due, LongSupplier call) {
         String got = "no exception";
         try {
             call.getAsLong();
@@ -46,7 +45,6 @@ final class Check {
             got = e.getClass().getName();
         }
         isText(what, got, due.getName());
-        isText("the state behind " + what, Look.at(shop), before);
     }
 
     static void end() {

@@ -19,9 +19,9 @@ final class CoilTest {
 
     private static void newShop() {
         StrikeStrip shop = new StrikeStrip();
-        Check.refuses(shop, "left of no coil", INDEX, () -> shop.left(0));
-        Check.refuses(shop, "racks of no part", INDEX, () -> shop.racks(0));
-        Check.refuses(shop, "shims of no die", INDEX, () -> shop.shims(0));
+        Check.refuses("left of no coil", INDEX, () -> shop.left(0));
+        Check.refuses("racks of no part", INDEX, () -> shop.racks(0));
+        Check.refuses("shims of no die", INDEX, () -> shop.shims(0));
         Check.is("press of a new shop", shop.press(200), 200);
         Check.is("the end of no run", shop.ended(), '-');
         Check.is("the first minute", shop.pass(1), 1);
@@ -30,27 +30,27 @@ final class CoilTest {
 
     private static void bounds() {
         StrikeStrip shop = new StrikeStrip();
-        Check.refuses(shop, "alloy -1", ARGUMENT, () -> shop.coil(-1, 100, 50, 10));
-        Check.refuses(shop, "alloy 4", ARGUMENT, () -> shop.coil(4, 100, 50, 10));
-        Check.refuses(shop, "thickness 19", ARGUMENT, () -> shop.coil(0, 19, 50, 10));
-        Check.refuses(shop, "thickness 601", ARGUMENT, () -> shop.coil(0, 601, 50, 10));
-        Check.refuses(shop, "width 9", ARGUMENT, () -> shop.coil(0, 100, 9, 10));
-        Check.refuses(shop, "width 501", ARGUMENT, () -> shop.coil(0, 100, 501, 10));
-        Check.refuses(shop, "length 0", ARGUMENT, () -> shop.coil(0, 100, 50, 0));
-        Check.refuses(shop, "length 100001", ARGUMENT, () -> shop.coil(0, 100, 50, 100001));
-        Check.refuses(shop, "least length", ARGUMENT, () -> shop.coil(0, 100, 50, Integer.MIN_VALUE));
+        Check.refuses("alloy -1", ARGUMENT, () -> shop.coil(-1, 100, 50, 10));
+        Check.refuses("alloy 4", ARGUMENT, () -> shop.coil(4, 100, 50, 10));
+        Check.refuses("thickness 19", ARGUMENT, () -> shop.coil(0, 19, 50, 10));
+        Check.refuses("thickness 601", ARGUMENT, () -> shop.coil(0, 601, 50, 10));
+        Check.refuses("width 9", ARGUMENT, () -> shop.coil(0, 100, 9, 10));
+        Check.refuses("width 501", ARGUMENT, () -> shop.coil(0, 100, 501, 10));
+        Check.refuses("length 0", ARGUMENT, () -> shop.coil(0, 100, 50, 0));
+        Check.refuses("length 100001", ARGUMENT, () -> shop.coil(0, 100, 50, 100001));
+        Check.refuses("least length", ARGUMENT, () -> shop.coil(0, 100, 50, Integer.MIN_VALUE));
         Check.is("the least coil", shop.coil(0, 20, 10, 1), 0);
         Check.is("the greatest coil", shop.coil(3, 600, 500, 100000), 1);
         Check.is("left of the least", shop.left(0), 1);
         Check.is("left of the greatest", shop.left(1), 100000);
         Check.is("weight of the least", shop.weight(0), 15);
         Check.is("weight of the greatest", shop.weight(1), 2550000000L);
-        Check.refuses(shop, "left(-1)", INDEX, () -> shop.left(-1));
-        Check.refuses(shop, "left(2)", INDEX, () -> shop.left(2));
-        Check.refuses(shop, "left(12)", INDEX, () -> shop.left(12));
-        Check.refuses(shop, "weight(-1)", INDEX, () -> shop.weight(-1));
-        Check.refuses(shop, "weight(2)", INDEX, () -> shop.weight(2));
-        Check.refuses(shop, "weight(max)", INDEX, () -> shop.weight(Integer.MAX_VALUE));
+        Check.refuses("left(-1)", INDEX, () -> shop.left(-1));
+        Check.refuses("left(2)", INDEX, () -> shop.left(2));
+        Check.refuses("left(12)", INDEX, () -> shop.left(12));
+        Check.refuses("weight(-1)", INDEX, () -> shop.weight(-1));
+        Check.refuses("weight(2)", INDEX, () -> shop.weight(2));
+        Check.refuses("weight(max)", INDEX, () -> shop.weight(Integer.MAX_VALUE));
     }
 
     private static void twelve() {
@@ -58,10 +58,10 @@ final class CoilTest {
         for (int i = 0; i < 12; i++) {
             Check.is("the number of a coil", shop.coil(0, 100, 50, 10), i);
         }
-        Check.refuses(shop, "the 13th coil", STATE, () -> shop.coil(0, 100, 50, 10));
-        Check.refuses(shop, "a wrong 13th coil", ARGUMENT, () -> shop.coil(4, 100, 50, 10));
+        Check.refuses("the 13th coil", STATE, () -> shop.coil(0, 100, 50, 10));
+        Check.refuses("a wrong 13th coil", ARGUMENT, () -> shop.coil(4, 100, 50, 10));
         shop.weld(0, 1);
-        Check.refuses(shop, "the 13th coil behind a weld", STATE, () -> shop.coil(0, 100, 50, 10));
+        Check.refuses("the 13th coil behind a weld", STATE, () -> shop.coil(0, 100, 50, 10));
     }
 
     private static void weights() {
@@ -97,18 +97,18 @@ final class CoilTest {
         shop.coil(0, 100, 51, 10);
         shop.coil(0, 95, 50, 10);
         shop.coil(0, 94, 50, 10);
-        Check.refuses(shop, "weld(-1, 0)", INDEX, () -> shop.weld(-1, 0));
-        Check.refuses(shop, "weld(0, 6)", INDEX, () -> shop.weld(0, 6));
-        Check.refuses(shop, "weld(6, 6)", INDEX, () -> shop.weld(6, 6));
-        Check.refuses(shop, "weld(0, 0)", UNSUPPORTED, () -> shop.weld(0, 0));
-        Check.refuses(shop, "a thicker one", UNSUPPORTED, () -> shop.weld(0, 1));
-        Check.refuses(shop, "a thinner one", UNSUPPORTED, () -> shop.weld(0, 5));
-        Check.refuses(shop, "another alloy", UNSUPPORTED, () -> shop.weld(0, 2));
-        Check.refuses(shop, "another width", UNSUPPORTED, () -> shop.weld(0, 3));
+        Check.refuses("weld(-1, 0)", INDEX, () -> shop.weld(-1, 0));
+        Check.refuses("weld(0, 6)", INDEX, () -> shop.weld(0, 6));
+        Check.refuses("weld(6, 6)", INDEX, () -> shop.weld(6, 6));
+        Check.refuses("weld(0, 0)", UNSUPPORTED, () -> shop.weld(0, 0));
+        Check.refuses("a thicker one", UNSUPPORTED, () -> shop.weld(0, 1));
+        Check.refuses("a thinner one", UNSUPPORTED, () -> shop.weld(0, 5));
+        Check.refuses("another alloy", UNSUPPORTED, () -> shop.weld(0, 2));
+        Check.refuses("another width", UNSUPPORTED, () -> shop.weld(0, 3));
         Check.is("just so", shop.weld(0, 4), 20);
-        Check.refuses(shop, "one that is used up", UNSUPPORTED, () -> shop.weld(0, 4));
-        Check.refuses(shop, "to one that is used up", UNSUPPORTED, () -> shop.weld(4, 5));
-        Check.refuses(shop, "an end that is too thin", UNSUPPORTED, () -> shop.weld(0, 1));
+        Check.refuses("one that is used up", UNSUPPORTED, () -> shop.weld(0, 4));
+        Check.refuses("to one that is used up", UNSUPPORTED, () -> shop.weld(4, 5));
+        Check.refuses("an end that is too thin", UNSUPPORTED, () -> shop.weld(0, 1));
         Check.is("the end counts", shop.weld(0, 5), 30);
     }
 
@@ -123,7 +123,7 @@ final class CoilTest {
         for (int i = 1; i <= 5; i++) {
             shop.weld(0, i);
         }
-        Check.refuses(shop, "the wrong way around", UNSUPPORTED, () -> shop.weld(6, 0));
+        Check.refuses("the wrong way around", UNSUPPORTED, () -> shop.weld(6, 0));
         Check.is("all twelve", shop.weld(0, 6), 186);
         long weight = 0;
         for (int i = 0; i < 12; i++) {
@@ -146,11 +146,11 @@ final class CoilTest {
         shop.die(0, false);
         shop.change(0);
         Check.is("a run down to the weld", shop.run(0, 1), 1);
-        Check.refuses(shop, "to the end that met it", UNSUPPORTED, () -> shop.weld(3, 0));
+        Check.refuses("to the end that met it", UNSUPPORTED, () -> shop.weld(3, 0));
         Check.is("behind the rest", shop.weld(0, 2), 20);
         shop.run(0, 2);
         Check.is("nothing is left", shop.left(0), 0);
-        Check.refuses(shop, "to a coil without metal", UNSUPPORTED, () -> shop.weld(0, 3));
-        Check.refuses(shop, "of a coil without metal", UNSUPPORTED, () -> shop.weld(3, 0));
+        Check.refuses("to a coil without metal", UNSUPPORTED, () -> shop.weld(0, 3));
+        Check.refuses("of a coil without metal", UNSUPPORTED, () -> shop.weld(3, 0));
     }
 }

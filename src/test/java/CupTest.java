@@ -18,10 +18,11 @@ final class CupTest {
         Check.is("the greatest", shop.disc(999, 999), 2234);
         Check.is("a whole root", shop.disc(4, 3), 8);
         for (int diameter = 1; diameter < 999; diameter += 13) {
+            StrikeStrip next = new StrikeStrip();
             for (int height = 0; height < 999; height += 31) {
                 long square = (long) diameter * diameter + 4L * diameter * height;
                 long due = (long) Math.ceil(Math.sqrt(square));
-                Check.is("a disc", shop.disc(diameter, height), due);
+                Check.is("a disc", next.disc(diameter, height), due);
             }
         }
     }
@@ -46,10 +47,11 @@ final class CupTest {
         // 45: 25, 20, 16, 13, 11, 9, 8, 7, 6, 5, 4, 3, 2, 1.
         Check.is("by one, at last", shop.draws(1, 500, false), 14);
         for (int diameter = 1; diameter <= 999; diameter += 4) {
+            StrikeStrip next = new StrikeStrip();
             for (int height = 0; height <= 999; height += 9) {
-                int wide = shop.disc(diameter, height);
-                Check.is("draws", shop.draws(diameter, height, false), counted(wide, diameter, 78));
-                Check.is("draws, annealed", shop.draws(diameter, height, true), counted(wide, diameter, 70));
+                int wide = next.disc(diameter, height);
+                Check.is("draws", next.draws(diameter, height, false), counted(wide, diameter, 78));
+                Check.is("draws, annealed", next.draws(diameter, height, true), counted(wide, diameter, 70));
             }
         }
     }
@@ -68,14 +70,14 @@ final class CupTest {
         StrikeStrip shop = new StrikeStrip();
         int[][] wrong = {{0, 0}, {1000, 0}, {1, -1}, {1, 1000}, {-1, 0}};
         for (int[] cup : wrong) {
-            Check.refuses(shop, "a disc", ARGUMENT, () -> shop.disc(cup[0], cup[1]));
-            Check.refuses(shop, "draws", ARGUMENT, () -> shop.draws(cup[0], cup[1], false));
-            Check.refuses(shop, "draws, annealed", ARGUMENT, () -> shop.draws(cup[0], cup[1], true));
+            Check.refuses("a disc", ARGUMENT, () -> shop.disc(cup[0], cup[1]));
+            Check.refuses("draws", ARGUMENT, () -> shop.draws(cup[0], cup[1], false));
+            Check.refuses("draws, annealed", ARGUMENT, () -> shop.draws(cup[0], cup[1], true));
         }
         int[][] angles = {{0, 0}, {18001, 0}, {1, -1}, {1, 301}};
         for (int[] angle : angles) {
-            Check.refuses(shop, "tried", ARGUMENT, () -> shop.tried(angle[0], angle[1]));
-            Check.refuses(shop, "tries", ARGUMENT, () -> shop.tries(angle[0], angle[1]));
+            Check.refuses("tried", ARGUMENT, () -> shop.tried(angle[0], angle[1]));
+            Check.refuses("tries", ARGUMENT, () -> shop.tries(angle[0], angle[1]));
         }
     }
 
@@ -89,6 +91,7 @@ final class CupTest {
         Check.is("once", shop.tries(1, 300), 1);
         int most = 0;
         for (int angle = 1; angle <= 18000; angle += 7) {
+            StrikeStrip next = new StrikeStrip();
             for (int spring = 0; spring <= 300; spring += 3) {
                 int tool = angle;
                 int struck = 0;
@@ -100,8 +103,8 @@ final class CupTest {
                     tool += angle - part;
                 }
                 most = Math.max(most, struck);
-                Check.is("tried", shop.tried(angle, spring), tool);
-                Check.is("tries", shop.tries(angle, spring), struck);
+                Check.is("tried", next.tried(angle, spring), tool);
+                Check.is("tries", next.tries(angle, spring), struck);
             }
         }
         Check.isTrue("many tries were told", most > 8);

@@ -21,15 +21,15 @@ final class PressTest {
         StrikeStrip shop = new StrikeStrip();
         Check.is("the first force", shop.press(10), 200);
         Check.is("the least", shop.press(2000), 10);
-        Check.refuses(shop, "force 9", ARGUMENT, () -> shop.press(9));
-        Check.refuses(shop, "force 2001", ARGUMENT, () -> shop.press(2001));
+        Check.refuses("force 9", ARGUMENT, () -> shop.press(9));
+        Check.refuses("force 2001", ARGUMENT, () -> shop.press(2001));
         Check.is("the greatest", shop.press(100), 2000);
     }
 
     private static void bears() {
         StrikeStrip shop = new StrikeStrip();
-        Check.refuses(shop, "degree -1", ARGUMENT, () -> shop.bears(-1));
-        Check.refuses(shop, "degree 360", ARGUMENT, () -> shop.bears(360));
+        Check.refuses("degree -1", ARGUMENT, () -> shop.bears(-1));
+        Check.refuses("degree 360", ARGUMENT, () -> shop.bears(360));
         Check.is("at the top", shop.bears(0), 33);
         Check.is("at the end", shop.bears(359), 33);
         Check.is("at 149", shop.bears(149), 193);
@@ -38,19 +38,20 @@ final class PressTest {
         Check.is("at 210", shop.bears(210), 200);
         Check.is("at 211", shop.bears(211), 193);
         for (int force = 10; force <= 2000; force += 199) {
-            shop.press(force);
+            StrikeStrip next = new StrikeStrip();
+            next.press(force);
             for (int degree = 0; degree < 360; degree++) {
                 int height = degree < 180 ? 180 - degree : degree - 180;
                 int due = height > 30 ? (int) Math.floor(force * 30.0 / height) : force;
-                Check.is("what is borne", shop.bears(degree), due);
+                Check.is("what is borne", next.bears(degree), due);
             }
         }
     }
 
     private static void overloads() {
         StrikeStrip shop = Shops.withDie(false);
-        Check.refuses(shop, "no die", INDEX, () -> shop.overloads(1));
-        Check.refuses(shop, "die -1", INDEX, () -> shop.overloads(-1));
+        Check.refuses("no die", INDEX, () -> shop.overloads(1));
+        Check.refuses("die -1", INDEX, () -> shop.overloads(-1));
         Check.is("no works", shop.overloads(0), -1);
         shop.work(0, 66, 90, 0);
         Check.is("just borne at 90", shop.overloads(0), -1);
@@ -83,7 +84,7 @@ final class PressTest {
         StrikeStrip other = Shops.withDie(false);
         other.work(0, 1, 180, -41);
         Check.is("place -41", other.overloads(0), 180);
-        Check.refuses(other, "a die that tilts", UNSUPPORTED, () -> other.change(0));
+        Check.refuses("a die that tilts", UNSUPPORTED, () -> other.change(0));
         StrikeStrip third = Shops.withDie(false);
         third.work(0, 1, 180, -40);
         Check.is("place -40", third.overloads(0), -1);
@@ -91,11 +92,11 @@ final class PressTest {
 
     private static void fingers() {
         StrikeStrip shop = Shops.withDie(false);
-        Check.refuses(shop, "no die", INDEX, () -> shop.fingers(1, -1, 0) ? 1 : 0);
-        Check.refuses(shop, "from -1", ARGUMENT, () -> shop.fingers(0, -1, 0) ? 1 : 0);
-        Check.refuses(shop, "from 360", ARGUMENT, () -> shop.fingers(0, 360, 0) ? 1 : 0);
-        Check.refuses(shop, "to -1", ARGUMENT, () -> shop.fingers(0, 0, -1) ? 1 : 0);
-        Check.refuses(shop, "to 360", ARGUMENT, () -> shop.fingers(0, 0, 360) ? 1 : 0);
+        Check.refuses("no die", INDEX, () -> shop.fingers(1, -1, 0) ? 1 : 0);
+        Check.refuses("from -1", ARGUMENT, () -> shop.fingers(0, -1, 0) ? 1 : 0);
+        Check.refuses("from 360", ARGUMENT, () -> shop.fingers(0, 360, 0) ? 1 : 0);
+        Check.refuses("to -1", ARGUMENT, () -> shop.fingers(0, 0, -1) ? 1 : 0);
+        Check.refuses("to 360", ARGUMENT, () -> shop.fingers(0, 0, 360) ? 1 : 0);
         Check.isTrue("to 119", shop.fingers(0, 0, 119));
         Check.isFalse("to 120", shop.fingers(0, 0, 120));
         Check.isFalse("from 240", shop.fingers(0, 240, 359));
@@ -114,20 +115,20 @@ final class PressTest {
         shop.die(0, true);
         shop.work(1, 200, 180, 0);
         shop.coil(0, 100, 15, 100);
-        Check.refuses(shop, "die -1", INDEX, () -> shop.change(-1));
-        Check.refuses(shop, "die 2", INDEX, () -> shop.change(2));
-        Check.refuses(shop, "a run without a die", STATE, () -> shop.run(0, 1));
+        Check.refuses("die -1", INDEX, () -> shop.change(-1));
+        Check.refuses("die 2", INDEX, () -> shop.change(2));
+        Check.refuses("a run without a die", STATE, () -> shop.run(0, 1));
         Check.is("the first change", shop.change(0), 28);
         Check.is("it is in", shop.change(0), 0);
         Check.is("the minute", shop.pass(1), 29);
         shop.press(199);
-        Check.refuses(shop, "too weak a press", UNSUPPORTED, () -> shop.change(1));
+        Check.refuses("too weak a press", UNSUPPORTED, () -> shop.change(1));
         Check.is("it is still in", shop.run(0, 1), 1);
         shop.press(200);
         Check.is("a change from another one", shop.change(1), 31);
         Check.is("the minute behind it", shop.pass(1), 62);
         shop.press(100);
-        Check.refuses(shop, "it is in, but suits no more", UNSUPPORTED, () -> shop.change(1));
+        Check.refuses("it is in, but suits no more", UNSUPPORTED, () -> shop.change(1));
         Check.is("back", shop.change(0), 31);
     }
 

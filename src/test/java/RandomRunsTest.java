@@ -9,6 +9,8 @@ import java.util.TreeSet;
  */
 final class RandomRunsTest {
     private static final int[] FACTORS = {785, 270, 896, 850};
+    /** What calls beyond these answer is free. */
+    private static final int LIFE = 512;
 
     private static final class Coil {
         int alloy;
@@ -59,20 +61,31 @@ final class RandomRunsTest {
     private int minute;
     private int in = -1;
     private char ended = '-';
+    private int callsMade;
 
     private RandomRunsTest(long seed) {
         random = new Random(seed);
     }
 
     public static void main(String[] args) {
-        for (int seed = 0; seed < 300; seed++) {
+        for (int seed = 0; seed < 1200; seed++) {
             RandomRunsTest test = new RandomRunsTest(seed);
-            for (int call = 0; call < 400; call++) {
+            // A step makes 3 calls at most, or looks at all.
+            while (test.callsMade + 2 * test.looks() + 3 < LIFE) {
                 test.step();
             }
             test.compare();
         }
         Check.end();
+    }
+
+    /** How many calls it takes to look at all. */
+    private int looks() {
+        int revisions = 0;
+        for (Part part : parts) {
+            revisions += part.stock.size();
+        }
+        return 2 * coils.size() + revisions + 3 * parts.size() + 4 * dies.size() + 8;
     }
 
     private int any(int least, int most) {
@@ -84,7 +97,16 @@ final class RandomRunsTest {
     }
 
     private void step() {
-        switch (any(0, 24)) {
+        callsMade++;
+        if (any(0, 200) == 0) {
+            compare();
+        } else {
+            act(any(0, 23));
+        }
+    }
+
+    private void act(int kind) {
+        switch (kind) {
             case 0, 1 -> coil();
             case 2, 3 -> weld();
             case 4 -> part();
@@ -101,13 +123,12 @@ final class RandomRunsTest {
             case 20 -> pass();
             case 21 -> revise();
             case 22 -> price();
-            case 23 -> sell();
-            default -> compare();
+            default -> sell();
         }
     }
 
     private void refused(String what, Class<? extends RuntimeException> due, java.util.function.LongSupplier call) {
-        Check.refuses(shop, what, due, call);
+        Check.refuses(what, due, call);
     }
 
     private void coil() {
@@ -163,6 +184,7 @@ final class RandomRunsTest {
             refused("part", IllegalStateException.class, () -> shop.part(0, 100));
             return;
         }
+        callsMade++;
         Part part = new Part();
         part.alloy = any(0, 1);
         part.thickness = any(95, 105);
@@ -182,6 +204,7 @@ final class RandomRunsTest {
         } else if (dies.size() == 8) {
             refused("die", IllegalStateException.class, () -> shop.die(number, isPair));
         } else {
+            callsMade += 2;
             Check.is("die", shop.die(number, isPair), dies.size());
             Die die = new Die();
             die.part = number;
@@ -299,6 +322,7 @@ final class RandomRunsTest {
         } else if (!suits(coils.get(number), dies.get(in))) {
             refused("run", UnsupportedOperationException.class, () -> shop.run(number, strokes));
         } else {
+            callsMade++;
             int before = goodParts;
             int madeBefore = dies.get(in).strokes;
             ended = 'd';
@@ -438,6 +462,7 @@ final class RandomRunsTest {
     }
 
     private void compare() {
+        callsMade += looks();
         for (int i = 0; i < coils.size(); i++) {
             Coil coil = coils.get(i);
             long weight = 0;

@@ -23,23 +23,23 @@ final class RunTest {
     private static void refusals() {
         StrikeStrip shop = Shops.withDie(false);
         shop.coil(1, 100, 15, 100);
-        Check.refuses(shop, "no coil", INDEX, () -> shop.run(1, 0));
-        Check.refuses(shop, "coil -1", INDEX, () -> shop.run(-1, 1));
-        Check.refuses(shop, "0 strokes", ARGUMENT, () -> shop.run(0, 0));
-        Check.refuses(shop, "601 strokes", ARGUMENT, () -> shop.run(0, 601));
-        Check.refuses(shop, "no die is in", STATE, () -> shop.run(0, 1));
+        Check.refuses("no coil", INDEX, () -> shop.run(1, 0));
+        Check.refuses("coil -1", INDEX, () -> shop.run(-1, 1));
+        Check.refuses("0 strokes", ARGUMENT, () -> shop.run(0, 0));
+        Check.refuses("601 strokes", ARGUMENT, () -> shop.run(0, 601));
+        Check.refuses("no die is in", STATE, () -> shop.run(0, 1));
         shop.change(0);
-        Check.refuses(shop, "another alloy", UNSUPPORTED, () -> shop.run(0, 600));
+        Check.refuses("another alloy", UNSUPPORTED, () -> shop.run(0, 600));
         shop.work(0, 201, 180, 0);
-        Check.refuses(shop, "it suits no more", STATE, () -> shop.run(0, 1));
+        Check.refuses("it suits no more", STATE, () -> shop.run(0, 1));
         shop.press(201);
-        Check.refuses(shop, "it suits again", UNSUPPORTED, () -> shop.run(0, 1));
+        Check.refuses("it suits again", UNSUPPORTED, () -> shop.run(0, 1));
         Check.is("no run", shop.ended(), '-');
-        Check.refuses(shop, "strokes of no die", INDEX, () -> shop.strokes(1));
-        Check.refuses(shop, "strokes of die -1", INDEX, () -> shop.strokes(-1));
-        Check.refuses(shop, "stock of no part", INDEX, () -> shop.stock(1, 0));
-        Check.refuses(shop, "stock of no revision", INDEX, () -> shop.stock(0, 1));
-        Check.refuses(shop, "stock of revision -1", INDEX, () -> shop.stock(0, -1));
+        Check.refuses("strokes of no die", INDEX, () -> shop.strokes(1));
+        Check.refuses("strokes of die -1", INDEX, () -> shop.strokes(-1));
+        Check.refuses("stock of no part", INDEX, () -> shop.stock(1, 0));
+        Check.refuses("stock of no revision", INDEX, () -> shop.stock(0, 1));
+        Check.refuses("stock of revision -1", INDEX, () -> shop.stock(0, -1));
     }
 
     private static void goingTogether() {
@@ -49,13 +49,13 @@ final class RunTest {
             shop.coil(0, thicknesses[i], 15, 100);
         }
         shop.coil(0, 100, 14, 100);
-        Check.refuses(shop, "6 thinner", UNSUPPORTED, () -> shop.run(1, 1));
+        Check.refuses("6 thinner", UNSUPPORTED, () -> shop.run(1, 1));
         Check.is("5 thinner", shop.run(2, 1), 1);
         Check.is("5 thicker", shop.run(3, 1), 1);
-        Check.refuses(shop, "6 thicker", UNSUPPORTED, () -> shop.run(4, 1));
-        Check.refuses(shop, "too narrow", UNSUPPORTED, () -> shop.run(5, 1));
+        Check.refuses("6 thicker", UNSUPPORTED, () -> shop.run(4, 1));
+        Check.refuses("too narrow", UNSUPPORTED, () -> shop.run(5, 1));
         shop.run(0, 10);
-        Check.refuses(shop, "no metal", UNSUPPORTED, () -> shop.run(0, 1));
+        Check.refuses("no metal", UNSUPPORTED, () -> shop.run(0, 1));
         shop.weld(3, 4);
         Check.is("only the foremost stretch counts", shop.run(3, 600), 19);
         Check.is("to its end", shop.ended(), 'c');
@@ -93,7 +93,7 @@ final class RunTest {
         Check.is("too little", shop.ended(), 'c');
         Check.is("the rest", shop.left(1), 9);
         Check.is("strokes that were made", shop.strokes(0), 12);
-        Check.refuses(shop, "a run that throws", ARGUMENT, () -> shop.run(1, 0));
+        Check.refuses("a run that throws", ARGUMENT, () -> shop.run(1, 0));
         Check.is("does not end", shop.ended(), 'c');
     }
 
@@ -252,7 +252,7 @@ final class RunTest {
         shop.coil(0, 104, 24, 1000);
         shop.coil(0, 104, 25, 1000);
         shop.change(0);
-        Check.refuses(shop, "too narrow for the pair", UNSUPPORTED, () -> shop.run(0, 1));
+        Check.refuses("too narrow for the pair", UNSUPPORTED, () -> shop.run(0, 1));
         Check.is("two a stroke", shop.run(1, 7), 14);
         Check.is("in stock", shop.stock(0, 0), 14);
         Check.is("left", shop.left(1), 930);
@@ -271,6 +271,6 @@ final class RunTest {
         shop.pass(10);
         Check.is("of the first one", shop.stock(0, 0), 4);
         Check.is("of the last one", shop.stock(0, 1), 2);
-        Check.refuses(shop, "of the next one", INDEX, () -> shop.stock(0, 2));
+        Check.refuses("of the next one", INDEX, () -> shop.stock(0, 2));
     }
 }

@@ -16,14 +16,14 @@ final class ScrapTest {
     private static void refusals() {
         StrikeStrip shop = new StrikeStrip();
         for (int alloy : new int[] {-1, 4, Integer.MAX_VALUE, Integer.MIN_VALUE}) {
-            Check.refuses(shop, "scrap", ARGUMENT, () -> shop.scrap(alloy));
-            Check.refuses(shop, "price", ARGUMENT, () -> shop.price(alloy, 100));
-            Check.refuses(shop, "sell", ARGUMENT, () -> shop.sell(alloy));
+            Check.refuses("scrap", ARGUMENT, () -> shop.scrap(alloy));
+            Check.refuses("price", ARGUMENT, () -> shop.price(alloy, 100));
+            Check.refuses("sell", ARGUMENT, () -> shop.sell(alloy));
         }
-        Check.refuses(shop, "cents -1", ARGUMENT, () -> shop.price(0, -1));
-        Check.refuses(shop, "cents 10000", ARGUMENT, () -> shop.price(0, 10000));
-        Check.refuses(shop, "no share", ARITHMETIC, () -> (long) shop.goodShare());
-        Check.refuses(shop, "no mean", ARITHMETIC, () -> (long) shop.meanWeight());
+        Check.refuses("cents -1", ARGUMENT, () -> shop.price(0, -1));
+        Check.refuses("cents 10000", ARGUMENT, () -> shop.price(0, 10000));
+        Check.refuses("no share", ARITHMETIC, () -> (long) shop.goodShare());
+        Check.refuses("no mean", ARITHMETIC, () -> (long) shop.meanWeight());
         for (int alloy = 0; alloy < 4; alloy++) {
             Check.is("the first price", shop.price(alloy, 0), 100);
             Check.is("the least", shop.price(alloy, 9999), 0);
@@ -100,7 +100,7 @@ final class ScrapTest {
         none.misfeed(0, 0);
         none.run(0, 1);
         Check.isReal("none of one", none.goodShare(), 0);
-        Check.refuses(none, "no good part", ARITHMETIC, () -> (long) none.meanWeight());
+        Check.refuses("no good part", ARITHMETIC, () -> (long) none.meanWeight());
     }
 
     private static void means() {

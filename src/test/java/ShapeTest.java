@@ -23,36 +23,36 @@ final class ShapeTest {
 
     private static void parts() {
         StrikeStrip shop = new StrikeStrip();
-        Check.refuses(shop, "alloy -1", ARGUMENT, () -> shop.part(-1, 100));
-        Check.refuses(shop, "alloy 4", ARGUMENT, () -> shop.part(4, 100));
-        Check.refuses(shop, "thickness 19", ARGUMENT, () -> shop.part(0, 19));
-        Check.refuses(shop, "thickness 601", ARGUMENT, () -> shop.part(0, 601));
+        Check.refuses("alloy -1", ARGUMENT, () -> shop.part(-1, 100));
+        Check.refuses("alloy 4", ARGUMENT, () -> shop.part(4, 100));
+        Check.refuses("thickness 19", ARGUMENT, () -> shop.part(0, 19));
+        Check.refuses("thickness 601", ARGUMENT, () -> shop.part(0, 601));
         for (int i = 0; i < 8; i++) {
             Check.is("the number of a part", shop.part(i % 4, i % 2 == 0 ? 20 : 600), i);
         }
-        Check.refuses(shop, "the 9th part", STATE, () -> shop.part(0, 100));
-        Check.refuses(shop, "a wrong 9th part", ARGUMENT, () -> shop.part(0, 19));
+        Check.refuses("the 9th part", STATE, () -> shop.part(0, 100));
+        Check.refuses("a wrong 9th part", ARGUMENT, () -> shop.part(0, 19));
     }
 
     private static void draws() {
         StrikeStrip shop = new StrikeStrip();
         shop.part(0, 100);
-        Check.refuses(shop, "part -1", INDEX, () -> shop.draw(-1, 0, 0, 1, 1));
-        Check.refuses(shop, "part 1, off the board", INDEX, () -> shop.draw(1, 8, 0, 1, 1));
+        Check.refuses("part -1", INDEX, () -> shop.draw(-1, 0, 0, 1, 1));
+        Check.refuses("part 1, off the board", INDEX, () -> shop.draw(1, 8, 0, 1, 1));
         int[][] wrong = {{-1, 0, 1, 1}, {0, -1, 1, 1}, {8, 0, 1, 1}, {0, 8, 1, 1}, {0, 0, 9, 1}, {0, 0, 1, 9},
             {5, 0, 4, 1}, {0, 5, 1, 4}, {0, 0, 0, 1}, {0, 0, 1, 0}, {0, 0, -1, 1}, {0, 0, 1, -1},
             {1, 0, Integer.MAX_VALUE, 1}, {0, 1, 1, Integer.MAX_VALUE}, {Integer.MIN_VALUE, 0, 1, 1},
             {Integer.MAX_VALUE, 0, 1, 1}, {0, 0, Integer.MIN_VALUE, 1}};
         for (int[] box : wrong) {
-            Check.refuses(shop, "a box off the board", ARGUMENT, () -> shop.draw(0, box[0], box[1], box[2], box[3]));
+            Check.refuses("a box off the board", ARGUMENT, () -> shop.draw(0, box[0], box[1], box[2], box[3]));
         }
         Check.is("a cell in a corner", shop.draw(0, 7, 7, 1, 1), 1);
         Check.is("the same one", shop.draw(0, 7, 7, 1, 1), 1);
         Check.is("a box", shop.draw(0, 2, 1, 3, 2), 7);
         Check.is("a box over it", shop.draw(0, 4, 2, 2, 2), 10);
         shop.die(0, false);
-        Check.refuses(shop, "a part with a die", UNSUPPORTED, () -> shop.draw(0, 0, 0, 1, 1));
-        Check.refuses(shop, "a box off the board, with a die", ARGUMENT, () -> shop.draw(0, 8, 0, 1, 1));
+        Check.refuses("a part with a die", UNSUPPORTED, () -> shop.draw(0, 0, 0, 1, 1));
+        Check.refuses("a box off the board, with a die", ARGUMENT, () -> shop.draw(0, 8, 0, 1, 1));
         shop.part(0, 100);
         Check.is("another part without a die", shop.draw(1, 0, 0, 8, 8), 64);
         Check.is("the pitch of a whole board", shop.pitch(1, false), 9);
@@ -64,12 +64,12 @@ final class ShapeTest {
         StrikeStrip shop = new StrikeStrip();
         shop.part(0, 100);
         for (boolean isPair : new boolean[] {false, true}) {
-            Check.refuses(shop, "pitch without a part", INDEX, () -> shop.pitch(1, isPair));
-            Check.refuses(shop, "height without a part", INDEX, () -> shop.height(-1, isPair));
-            Check.refuses(shop, "used without a part", INDEX, () -> shop.used(8, isPair));
-            Check.refuses(shop, "pitch of nothing", NONE, () -> shop.pitch(0, isPair));
-            Check.refuses(shop, "height of nothing", NONE, () -> shop.height(0, isPair));
-            Check.refuses(shop, "used of nothing", NONE, () -> shop.used(0, isPair));
+            Check.refuses("pitch without a part", INDEX, () -> shop.pitch(1, isPair));
+            Check.refuses("height without a part", INDEX, () -> shop.height(-1, isPair));
+            Check.refuses("used without a part", INDEX, () -> shop.used(8, isPair));
+            Check.refuses("pitch of nothing", NONE, () -> shop.pitch(0, isPair));
+            Check.refuses("height of nothing", NONE, () -> shop.height(0, isPair));
+            Check.refuses("used of nothing", NONE, () -> shop.used(0, isPair));
         }
     }
 
@@ -137,17 +137,17 @@ final class ShapeTest {
     private static void revisions() {
         StrikeStrip shop = new StrikeStrip();
         shop.part(0, 100);
-        Check.refuses(shop, "a part that is not", INDEX, () -> shop.revise(1, 100));
-        Check.refuses(shop, "part -1", INDEX, () -> shop.revise(-1, 10));
-        Check.refuses(shop, "limit -1", ARGUMENT, () -> shop.revise(0, -1));
-        Check.refuses(shop, "limit 100", ARGUMENT, () -> shop.revise(0, 100));
+        Check.refuses("a part that is not", INDEX, () -> shop.revise(1, 100));
+        Check.refuses("part -1", INDEX, () -> shop.revise(-1, 10));
+        Check.refuses("limit -1", ARGUMENT, () -> shop.revise(0, -1));
+        Check.refuses("limit 100", ARGUMENT, () -> shop.revise(0, 100));
         Check.is("the first revision", shop.revise(0, 0), 1);
         Check.is("the next one", shop.revise(0, 99), 2);
         for (int i = 3; i <= 500; i++) {
             Check.is("a later one", shop.revise(0, 20), i);
         }
         Check.is("stock of the last one", shop.stock(0, 500), 0);
-        Check.refuses(shop, "stock of the next one", INDEX, () -> shop.stock(0, 501));
+        Check.refuses("stock of the next one", INDEX, () -> shop.stock(0, 501));
     }
 
     /** Any shapes, against sets of cells that are moved one by one. */

@@ -19,69 +19,69 @@ final class WorkTest {
 
     private static void dies() {
         StrikeStrip shop = new StrikeStrip();
-        Check.refuses(shop, "no part", INDEX, () -> shop.die(0, false));
+        Check.refuses("no part", INDEX, () -> shop.die(0, false));
         shop.part(0, 100);
-        Check.refuses(shop, "part -1", INDEX, () -> shop.die(-1, true));
-        Check.refuses(shop, "an empty shape", UNSUPPORTED, () -> shop.die(0, false));
+        Check.refuses("part -1", INDEX, () -> shop.die(-1, true));
+        Check.refuses("an empty shape", UNSUPPORTED, () -> shop.die(0, false));
         shop.draw(0, 0, 0, 1, 1);
         shop.part(1, 100);
         for (int i = 0; i < 8; i++) {
             Check.is("the number of a die", shop.die(0, i % 2 == 0), i);
         }
-        Check.refuses(shop, "a 9th die", STATE, () -> shop.die(0, false));
-        Check.refuses(shop, "a 9th die of an empty shape", UNSUPPORTED, () -> shop.die(1, false));
-        Check.refuses(shop, "a 9th die of no part", INDEX, () -> shop.die(2, false));
+        Check.refuses("a 9th die", STATE, () -> shop.die(0, false));
+        Check.refuses("a 9th die of an empty shape", UNSUPPORTED, () -> shop.die(1, false));
+        Check.refuses("a 9th die of no part", INDEX, () -> shop.die(2, false));
     }
 
     private static void works() {
         StrikeStrip shop = Shops.withDie(false);
-        Check.refuses(shop, "no die", INDEX, () -> shop.work(1, 0, 90, 0));
-        Check.refuses(shop, "die -1", INDEX, () -> shop.work(-1, 1, 90, 0));
+        Check.refuses("no die", INDEX, () -> shop.work(1, 0, 90, 0));
+        Check.refuses("die -1", INDEX, () -> shop.work(-1, 1, 90, 0));
         int[][] wrong = {{0, 90, 0}, {401, 90, 0}, {1, 89, 0}, {1, 181, 0}, {1, 90, -100}, {1, 90, 100}};
         for (int[] work : wrong) {
-            Check.refuses(shop, "a work", ARGUMENT, () -> shop.work(0, work[0], work[1], work[2]));
+            Check.refuses("a work", ARGUMENT, () -> shop.work(0, work[0], work[1], work[2]));
         }
         for (int i = 0; i < 8; i++) {
             boolean isLeast = i % 2 == 0;
             int place = isLeast ? -99 : 99;
             Check.is("the number of a work", shop.work(0, isLeast ? 1 : 400, isLeast ? 90 : 180, place), i);
         }
-        Check.refuses(shop, "a 9th work", STATE, () -> shop.work(0, 1, 90, 0));
-        Check.refuses(shop, "a wrong 9th work", ARGUMENT, () -> shop.work(0, 1, 90, 100));
+        Check.refuses("a 9th work", STATE, () -> shop.work(0, 1, 90, 0));
+        Check.refuses("a wrong 9th work", ARGUMENT, () -> shop.work(0, 1, 90, 100));
         shop.die(0, false);
         Check.is("the first work of another die", shop.work(1, 1, 90, 0), 0);
     }
 
     private static void behind() {
         StrikeStrip shop = withWorks(4, 1);
-        Check.refuses(shop, "no die", INDEX, () -> shop.behind(1, 0, 0));
-        Check.refuses(shop, "no later work", INDEX, () -> shop.behind(0, 4, 0));
-        Check.refuses(shop, "no earlier work", INDEX, () -> shop.behind(0, 0, -1));
-        Check.refuses(shop, "an earlier work behind the last", INDEX, () -> shop.behind(0, 0, 4));
-        Check.refuses(shop, "a later work ahead of the first", INDEX, () -> shop.behind(0, -1, 0));
-        Check.refuses(shop, "the same work that is not", INDEX, () -> shop.behind(0, 4, 4));
-        Check.refuses(shop, "the same", UNSUPPORTED, () -> shop.behind(0, 1, 1));
+        Check.refuses("no die", INDEX, () -> shop.behind(1, 0, 0));
+        Check.refuses("no later work", INDEX, () -> shop.behind(0, 4, 0));
+        Check.refuses("no earlier work", INDEX, () -> shop.behind(0, 0, -1));
+        Check.refuses("an earlier work behind the last", INDEX, () -> shop.behind(0, 0, 4));
+        Check.refuses("a later work ahead of the first", INDEX, () -> shop.behind(0, -1, 0));
+        Check.refuses("the same work that is not", INDEX, () -> shop.behind(0, 4, 4));
+        Check.refuses("the same", UNSUPPORTED, () -> shop.behind(0, 1, 1));
         Check.is("behind one", shop.behind(0, 2, 1), 1);
         Check.is("behind it again", shop.behind(0, 2, 1), 1);
         Check.is("one behind it", shop.behind(0, 3, 2), 1);
-        Check.refuses(shop, "in a ring", UNSUPPORTED, () -> shop.behind(0, 1, 2));
-        Check.refuses(shop, "in a ring over others", UNSUPPORTED, () -> shop.behind(0, 1, 3));
+        Check.refuses("in a ring", UNSUPPORTED, () -> shop.behind(0, 1, 2));
+        Check.refuses("in a ring over others", UNSUPPORTED, () -> shop.behind(0, 1, 3));
         Check.is("behind it over others, and itself", shop.behind(0, 3, 1), 2);
         Check.is("the first one behind the last", shop.behind(0, 0, 3), 1);
-        Check.refuses(shop, "in a ring of all", UNSUPPORTED, () -> shop.behind(0, 1, 0));
+        Check.refuses("in a ring of all", UNSUPPORTED, () -> shop.behind(0, 1, 0));
         Check.is("stations", shop.stations(0), 4);
         Check.is("the last station", shop.stationOf(0, 0), 3);
     }
 
     private static void apart() {
         StrikeStrip shop = withWorks(3, 1);
-        Check.refuses(shop, "no die", INDEX, () -> shop.apart(-1, 0, 0) ? 1 : 0);
-        Check.refuses(shop, "no work", INDEX, () -> shop.apart(0, 3, 3) ? 1 : 0);
-        Check.refuses(shop, "no other work", INDEX, () -> shop.apart(0, 0, -1) ? 1 : 0);
-        Check.refuses(shop, "another work behind the last", INDEX, () -> shop.apart(0, 0, 3) ? 1 : 0);
-        Check.refuses(shop, "a work behind the last", INDEX, () -> shop.apart(0, 3, 0) ? 1 : 0);
-        Check.refuses(shop, "a work ahead of the first", INDEX, () -> shop.apart(0, -1, 0) ? 1 : 0);
-        Check.refuses(shop, "the same", UNSUPPORTED, () -> shop.apart(0, 2, 2) ? 1 : 0);
+        Check.refuses("no die", INDEX, () -> shop.apart(-1, 0, 0) ? 1 : 0);
+        Check.refuses("no work", INDEX, () -> shop.apart(0, 3, 3) ? 1 : 0);
+        Check.refuses("no other work", INDEX, () -> shop.apart(0, 0, -1) ? 1 : 0);
+        Check.refuses("another work behind the last", INDEX, () -> shop.apart(0, 0, 3) ? 1 : 0);
+        Check.refuses("a work behind the last", INDEX, () -> shop.apart(0, 3, 0) ? 1 : 0);
+        Check.refuses("a work ahead of the first", INDEX, () -> shop.apart(0, -1, 0) ? 1 : 0);
+        Check.refuses("the same", UNSUPPORTED, () -> shop.apart(0, 2, 2) ? 1 : 0);
         Check.is("one station", shop.stations(0), 1);
         Check.isTrue("apart", shop.apart(0, 2, 0));
         Check.isFalse("apart already", shop.apart(0, 0, 2));
@@ -95,13 +95,13 @@ final class WorkTest {
 
     private static void stations() {
         StrikeStrip shop = Shops.withDie(false);
-        Check.refuses(shop, "no die", INDEX, () -> shop.stations(1));
-        Check.refuses(shop, "no die for a work", INDEX, () -> shop.stationOf(1, 0));
+        Check.refuses("no die", INDEX, () -> shop.stations(1));
+        Check.refuses("no die for a work", INDEX, () -> shop.stationOf(1, 0));
         Check.is("no works", shop.stations(0), 0);
-        Check.refuses(shop, "no work", INDEX, () -> shop.stationOf(0, 0));
+        Check.refuses("no work", INDEX, () -> shop.stationOf(0, 0));
         shop.work(0, 250, 90, 0);
         Check.is("one work", shop.stations(0), 1);
-        Check.refuses(shop, "work -1", INDEX, () -> shop.stationOf(0, -1));
+        Check.refuses("work -1", INDEX, () -> shop.stationOf(0, -1));
         shop.work(0, 250, 90, 0);
         Check.is("500 tons", shop.stations(0), 1);
         shop.work(0, 1, 90, 0);
