@@ -16,6 +16,9 @@ final class BendTest {
         longest();
         lengths();
         anyProfiles();
+        closing();
+        anew();
+        roundedLengths();
         Check.end();
     }
 
@@ -170,5 +173,77 @@ final class BendTest {
             }
         }
         return false;
+    }
+
+    /** Four stretches of 2: the last point is the first one's, or one short of it, or the first one is crossed. */
+    private static void closing() {
+        for (boolean isLeft : new boolean[] {false, true}) {
+            for (int last = 1; last <= 3; last++) {
+                StrikeStrip shop = new StrikeStrip();
+                shop.profile(2);
+                shop.bend(isLeft, 2);
+                shop.bend(isLeft, 2);
+                shop.bend(isLeft, last);
+                if (last == 1) {
+                    Check.is("one short of it", shop.bendAt(0) * 100 + shop.bendAt(1) * 10 + shop.bendAt(2), 12);
+                } else {
+                    Check.refuses("a profile that meets itself", NONE, () -> shop.bendAt(0));
+                }
+            }
+        }
+        // The last stretch comes to the middle of the first one, or ends a point ahead of it.
+        for (int last = 1; last <= 2; last++) {
+            StrikeStrip shop = new StrikeStrip();
+            shop.profile(9);
+            shop.bend(true, 2);
+            shop.bend(true, 4);
+            shop.bend(true, last);
+            if (last == 1) {
+                Check.is("ahead of the middle", shop.bendAt(2), 2);
+            } else {
+                Check.refuses("at the middle", NONE, () -> shop.bendAt(2));
+            }
+        }
+        // Half made it would meet itself, so that it is bent from the end on.
+        StrikeStrip shop = new StrikeStrip();
+        shop.profile(1);
+        shop.bend(true, 1);
+        shop.bend(true, 2);
+        shop.bend(false, 1);
+        Check.is("a good order", shop.bendAt(0) * 100 + shop.bendAt(1) * 10 + shop.bendAt(2), 12);
+    }
+
+    /** What was asked for ahead of a bend or a new profile is not kept. */
+    private static void anew() {
+        StrikeStrip shop = new StrikeStrip();
+        shop.profile(2);
+        shop.bend(true, 2);
+        shop.bend(true, 2);
+        Check.is("a good order of two", shop.bendAt(1), 1);
+        shop.bend(true, 2);
+        Check.refuses("none of three", NONE, () -> shop.bendAt(1));
+        Check.is("anew", shop.profile(2), 3);
+        Check.refuses("no bends", INDEX, () -> shop.bendAt(0));
+        Check.is("its length", shop.unfolded(999, 600), 200);
+        shop.bend(false, 1);
+        Check.is("a good order of one", shop.bendAt(0), 0);
+        Check.refuses("not of two", INDEX, () -> shop.bendAt(1));
+        Check.is("a profile of two", shop.bend(false, 1), 2);
+        Check.is("its second one", shop.bendAt(1), 1);
+    }
+
+    /** Two fifths of the thickness are taken together with the radius, and rounded down; then the bend is. */
+    private static void roundedLengths() {
+        int[][] dues = {{0, 20, 12}, {0, 22, 12}, {0, 23, 14}, {0, 24, 14}, {0, 25, 15}, {1, 20, 14}, {91, 20, 155},
+            {92, 20, 157}, {92, 22, 157}, {92, 23, 158}, {991, 21, 1568}, {992, 20, 1570}, {999, 600, 1945}};
+        for (int[] due : dues) {
+            StrikeStrip shop = new StrikeStrip();
+            shop.profile(9);
+            for (int bends = 1; bends <= 6; bends++) {
+                shop.bend(bends % 2 == 0, 9);
+                Check.is("a bend of " + due[0] + " and " + due[1], shop.unfolded(due[0], due[1]),
+                        900 * (bends + 1) + bends * due[2]);
+            }
+        }
     }
 }

@@ -14,6 +14,10 @@ final class CoilTest {
         weldRefusals();
         weldChains();
         weldOfRest();
+        weldEdges();
+        lastMillimetre();
+        roundings();
+        shopsApart();
         Check.end();
     }
 
@@ -152,5 +156,95 @@ final class CoilTest {
         Check.is("nothing is left", shop.left(0), 0);
         Check.refuses("to a coil without metal", UNSUPPORTED, () -> shop.weld(0, 3));
         Check.refuses("of a coil without metal", UNSUPPORTED, () -> shop.weld(3, 0));
+    }
+
+    /** Thicknesses that meet may differ by 5; alloys and widths not at all. */
+    private static void weldEdges() {
+        for (int unlike = -7; unlike <= 7; unlike++) {
+            StrikeStrip shop = new StrikeStrip();
+            shop.coil(2, 300, 50, 10);
+            shop.coil(2, 300 + unlike, 50, 10);
+            if (unlike >= -5 && unlike <= 5) {
+                Check.is("unlike by " + unlike, shop.weld(0, 1), 20);
+            } else {
+                Check.refuses("unlike by " + unlike, UNSUPPORTED, () -> shop.weld(0, 1));
+            }
+        }
+        for (int wider = -1; wider <= 1; wider++) {
+            for (int alloy = 1; alloy <= 3; alloy++) {
+                StrikeStrip shop = new StrikeStrip();
+                shop.coil(2, 300, 50, 10);
+                shop.coil(alloy, 300, 50 + wider, 10);
+                if (wider == 0 && alloy == 2) {
+                    Check.is("alike", shop.weld(0, 1), 20);
+                } else {
+                    Check.refuses("wider by " + wider, UNSUPPORTED, () -> shop.weld(0, 1));
+                }
+            }
+        }
+        // 100 and 105 are welded: behind them 110 is taken, ahead of them 95, each by the stretch that it meets.
+        StrikeStrip shop = new StrikeStrip();
+        int[] thicknesses = {100, 105, 110, 111, 95, 94};
+        for (int thickness : thicknesses) {
+            shop.coil(0, thickness, 50, 10);
+        }
+        shop.weld(0, 1);
+        Check.refuses("111 behind 105", UNSUPPORTED, () -> shop.weld(0, 3));
+        Check.refuses("100 behind 94", UNSUPPORTED, () -> shop.weld(5, 0));
+        Check.is("100 behind 95", shop.weld(4, 0), 30);
+        Check.is("110 behind 105", shop.weld(4, 2), 40);
+        Check.is("nothing is left of what was welded", shop.left(0) + shop.left(1) + shop.left(2), 0);
+    }
+
+    /** A coil with a millimetre left can be welded and weighed, one with none can't be welded. */
+    private static void lastMillimetre() {
+        for (int length = 10; length <= 11; length++) {
+            StrikeStrip shop = Shops.ready(length);
+            shop.coil(0, 100, 15, 5);
+            shop.coil(0, 100, 15, 5);
+            Check.is("a stroke", shop.run(0, 1), 1);
+            Check.is("left", shop.left(0), length - 10);
+            Check.is("its weight", shop.weight(0), (length - 10) * 15L * 100 * 785 / 10000);
+            if (length == 10) {
+                Check.refuses("behind nothing", UNSUPPORTED, () -> shop.weld(0, 1));
+                Check.refuses("of nothing", UNSUPPORTED, () -> shop.weld(1, 0));
+            } else {
+                Check.is("behind a millimetre", shop.weld(0, 1), 6);
+                Check.is("of that", shop.weld(2, 0), 11);
+            }
+        }
+    }
+
+    private static void roundings() {
+        // 15.7, 5.4, 17.92 and 17 milligrams.
+        int[] dues = {15, 5, 17, 17};
+        for (int alloy = 0; alloy < 4; alloy++) {
+            StrikeStrip shop = new StrikeStrip();
+            shop.coil(alloy, 20, 10, 1);
+            Check.is("rounded down", shop.weight(0), dues[alloy]);
+        }
+        // 5.4 and 5.67 are 11.07: they are put together first.
+        StrikeStrip shop = new StrikeStrip();
+        shop.coil(1, 20, 10, 1);
+        shop.coil(1, 21, 10, 1);
+        shop.weld(0, 1);
+        Check.is("parts of a milligram are kept", shop.weight(0), 11);
+        StrikeStrip long1 = new StrikeStrip();
+        for (int i = 0; i < 12; i++) {
+            long1.coil(2, 600, 500, 100000);
+        }
+        for (int i = 1; i < 12; i++) {
+            Check.is("the longest", long1.weld(0, i), 100000 * (i + 1));
+        }
+        Check.is("the heaviest", long1.weight(0), 12 * 2688000000L);
+        Check.isTrue("sound", long1.isSound());
+    }
+
+    private static void shopsApart() {
+        StrikeStrip one = Shops.working();
+        StrikeStrip other = new StrikeStrip();
+        Check.isText("another new shop", Look.at(other), Look.at(new StrikeStrip()));
+        Check.is("its first coil", other.coil(0, 20, 10, 1), 0);
+        Check.is("the coils of the first one", one.coil(0, 20, 10, 1), 5);
     }
 }

@@ -7,6 +7,9 @@ final class CupTest {
         draws();
         refusals();
         tries();
+        roundedDraws();
+        wholeDiscs();
+        roundedSprings();
         Check.end();
     }
 
@@ -108,5 +111,62 @@ final class CupTest {
             }
         }
         Check.isTrue("many tries were told", most > 8);
+    }
+
+    /** Hundredths that are whole, and those that are rounded up, at each draw. */
+    private static void roundedDraws() {
+        StrikeStrip shop = new StrikeStrip();
+        Check.is("a disc of 20", shop.disc(11, 6), 20);
+        Check.is("55 hundredths of 20 are 11", shop.draws(11, 6, false), 1);
+        Check.is("a disc of 20 for 10", shop.disc(10, 7), 20);
+        Check.is("10 is narrower", shop.draws(10, 7, false), 2);
+        Check.is("a disc of 21", shop.disc(11, 7), 21);
+        Check.is("55 hundredths of 21 are 12", shop.draws(11, 7, false), 2);
+        Check.is("a disc of 21 for 12", shop.disc(12, 6), 21);
+        Check.is("which 12 is", shop.draws(12, 6, false), 1);
+        // 200, 110, 77, and then 78 hundredths again, 61: it is annealed but once.
+        Check.is("a disc of 200", shop.disc(61, 148), 200);
+        Check.is("annealed ahead of the second draw", shop.draws(61, 148, true), 3);
+        Check.is("and not ahead of the third one", shop.draws(60, 151, true), 4);
+        Check.is("a disc of 200 for 60", shop.disc(60, 151), 200);
+        // 200, 110, 86, 68.
+        Check.is("not annealed", shop.draws(68, 131, false), 3);
+        Check.is("67 is one more", shop.draws(67, 133, false), 4);
+        Check.is("the first draw is not annealed", shop.draws(109, 65, true), 2);
+    }
+
+    private static void wholeDiscs() {
+        StrikeStrip shop = new StrikeStrip();
+        // 64 is a whole square; 60 and 68 are not.
+        Check.is("60", shop.disc(2, 7), 8);
+        Check.is("64", shop.disc(4, 3), 8);
+        Check.is("68", shop.disc(2, 8), 9);
+        Check.is("1 and 8", shop.disc(1, 2), 3);
+        Check.is("1 and 12", shop.disc(1, 3), 4);
+        for (int diameter = 1; diameter <= 999; diameter += 499) {
+            Check.is("no height", shop.disc(diameter, 0), diameter);
+            Check.is("no draw", shop.draws(diameter, 0, false), 0);
+            Check.is("no draw, annealed", shop.draws(diameter, 0, true), 0);
+            Check.isTrue("a height of 1", shop.disc(diameter, 1) > diameter);
+            Check.isTrue("a draw", shop.draws(diameter, 1, false) > 0);
+        }
+    }
+
+    /** A spring of a whole hundredth, and one just below it. */
+    private static void roundedSprings() {
+        StrikeStrip shop = new StrikeStrip();
+        Check.is("999 thousandths are none", shop.tries(999, 1), 1);
+        Check.is("so that the tool is right", shop.tried(999, 1), 999);
+        Check.is("1000 thousandths are one", shop.tries(1000, 1), 2);
+        Check.is("so that it is added", shop.tried(1000, 1), 1001);
+        Check.is("1.998 are one", shop.tried(1997, 1), 1998);
+        // 1999 has a spring of 1, and 2000 one of 2, for which 2001 is wanted.
+        Check.is("what is added springs, too", shop.tried(1999, 1), 2001);
+        Check.is("three times", shop.tries(1999, 1), 3);
+        Check.is("0.9 is none", shop.tries(3, 300), 1);
+        Check.is("1.2 is one", shop.tried(4, 300), 5);
+        Check.is("1.5, too", shop.tries(4, 300), 2);
+        Check.is("a part that is right adds nothing", shop.tried(5, 300), 6);
+        Check.is("the greatest spring of the greatest angle", shop.tried(18000, 300), 25713);
     }
 }

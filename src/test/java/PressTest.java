@@ -14,6 +14,11 @@ final class PressTest {
         changes();
         changesCall();
         schedules();
+        heights();
+        pressingDegrees();
+        exactTilts();
+        fingersAtEachDegree();
+        suitsJustSo();
         Check.end();
     }
 
@@ -186,5 +191,127 @@ final class PressTest {
             }
         }
         return lasts[work] + longest;
+    }
+
+    /** The whole force is borne up to a height of 30; above it, less is, rounded down. */
+    private static void heights() {
+        StrikeStrip shop = new StrikeStrip();
+        shop.press(10);
+        Check.is("10 at the top", shop.bears(0), 1);
+        Check.is("10 at 31", shop.bears(149), 9);
+        shop.press(2000);
+        Check.is("2000 at the top", shop.bears(0), 333);
+        Check.is("2000 at 30", shop.bears(150), 2000);
+        Check.is("2000 at 30 again", shop.bears(210), 2000);
+        Check.is("2000 at 31", shop.bears(149), 1935);
+        Check.is("2000 at 31 again", shop.bears(211), 1935);
+        shop.press(31);
+        Check.is("31 at 31, just so", shop.bears(149), 30);
+        Check.is("31 at 32", shop.bears(148), 29);
+        shop.press(180);
+        Check.is("180 at the top, just so", shop.bears(0), 30);
+        shop.press(179);
+        Check.is("179 at the top", shop.bears(0), 29);
+        Check.is("179 at 1, one more than at the top", shop.bears(1), 30);
+        Check.is("and at 359", shop.bears(359), 30);
+    }
+
+    /** A work presses from its degree on, and until 180. */
+    private static void pressingDegrees() {
+        for (int degree = 90; degree <= 180; degree++) {
+            StrikeStrip shop = Shops.withDie(false);
+            int borne = degree < 150 ? 200 * 30 / (180 - degree) : 200;
+            shop.work(0, borne, degree, 40);
+            Check.is("just borne from " + degree, shop.overloads(0), -1);
+            shop.work(0, 1, degree, 0);
+            Check.is("one more", shop.overloads(0), degree);
+        }
+        StrikeStrip shop = Shops.withDie(false);
+        shop.work(0, 67, 90, 0);
+        Check.is("67 are not borne at 90", shop.overloads(0), 90);
+        shop.press(201);
+        Check.is("but by 201", shop.overloads(0), -1);
+        shop.work(0, 134, 179, 0);
+        Check.is("201 up to the bottom, and not behind it", shop.overloads(0), -1);
+        shop.work(0, 1, 180, 0);
+        Check.is("202 at the bottom alone", shop.overloads(0), 180);
+    }
+
+    private static void exactTilts() {
+        int[][] dues = {{40, 40, -1}, {-40, -40, -1}, {41, 39, -1}, {-41, -39, -1}, {41, 40, 180}, {-41, -40, 180},
+            {99, -19, -1}, {99, -18, 180}, {-99, 19, -1}, {-99, 18, 180}, {99, -99, -1}};
+        for (int[] due : dues) {
+            StrikeStrip shop = Shops.withDie(false);
+            shop.work(0, 1, 180, due[0]);
+            shop.work(0, 1, 180, due[1]);
+            Check.is("places " + due[0] + " and " + due[1], shop.overloads(0), due[2]);
+        }
+        // Until the second one presses, too, the first one tilts.
+        StrikeStrip shop = Shops.withDie(false);
+        shop.work(0, 5, 120, 80);
+        shop.work(0, 5, 121, -80);
+        Check.is("at one degree alone", shop.overloads(0), 120);
+        StrikeStrip other = Shops.withDie(false);
+        other.work(0, 5, 120, 80);
+        other.work(0, 5, 120, -80);
+        Check.is("at none", other.overloads(0), -1);
+        // Force 33 at 99 and 47 at -1 are 3220 by 80.
+        StrikeStrip third = Shops.withDie(false);
+        third.work(0, 33, 170, 99);
+        third.work(0, 47, 170, -1);
+        Check.is("20 too much", third.overloads(0), 170);
+        third.work(0, 1, 170, 20);
+        Check.is("just so: 3240 by 81", third.overloads(0), -1);
+    }
+
+    /** Degree by degree, and from each one over the end of a stroke. */
+    private static void fingersAtEachDegree() {
+        StrikeStrip alone = Shops.withDie(false);
+        for (int degree = 0; degree < 360; degree++) {
+            Check.is("alone at " + degree, alone.fingers(0, degree, degree) ? 1 : 0,
+                    degree < 120 || degree > 240 ? 1 : 0);
+        }
+        StrikeStrip over = Shops.withDie(false);
+        for (int degree = 0; degree < 360; degree++) {
+            int before = degree == 0 ? 359 : degree - 1;
+            Check.isFalse("all around from " + degree, over.fingers(0, degree, before));
+        }
+        StrikeStrip shop = Shops.withDie(false);
+        int[][] dues = {{241, 119, 1}, {241, 120, 0}, {240, 119, 0}, {359, 0, 1}, {359, 119, 1}, {359, 120, 0},
+            {241, 0, 1}, {240, 0, 0}, {0, 119, 1}, {0, 120, 0}, {241, 359, 1}, {240, 359, 0}, {119, 119, 1},
+            {120, 120, 0}, {240, 240, 0}, {241, 241, 1}, {0, 359, 0}, {119, 241, 0}, {119, 118, 0}, {242, 241, 0},
+            {118, 119, 1}, {241, 242, 1}, {359, 358, 0}};
+        for (int[] due : dues) {
+            Check.is("from " + due[0] + " to " + due[1], shop.fingers(0, due[0], due[1]) ? 1 : 0, due[2]);
+        }
+        String before = Look.at(shop);
+        shop.fingers(0, 100, 200);
+        Check.isText("nothing else comes of it", Look.at(shop), before);
+    }
+
+    private static void suitsJustSo() {
+        StrikeStrip shop = Shops.withDie(false);
+        shop.coil(0, 100, 15, 100);
+        shop.work(0, 200, 150, 40);
+        Check.is("just borne, and just not tilted", shop.change(0), 28);
+        Check.is("so that it runs", shop.run(0, 1), 1);
+        shop.press(199);
+        Check.refuses("a ton less", STATE, () -> shop.run(0, 1));
+        Check.refuses("it is in, but does not suit", UNSUPPORTED, () -> shop.change(0));
+        shop.press(200);
+        Check.is("it is still in", shop.change(0), 0);
+        shop.work(0, 1, 180, 0);
+        Check.refuses("a ton more", STATE, () -> shop.run(0, 1));
+        shop.press(201);
+        Check.is("a ton more of the press", shop.run(0, 1), 1);
+        shop.work(0, 1, 180, 99);
+        shop.press(2000);
+        Check.is("8099 by 202", shop.overloads(0), 180);
+        Check.refuses("it tilts", STATE, () -> shop.run(0, 1));
+        Check.refuses("and can't be changed to", UNSUPPORTED, () -> shop.change(0));
+        shop.die(0, false);
+        Check.is("another one", shop.change(1), 31);
+        Check.refuses("not back", UNSUPPORTED, () -> shop.change(0));
+        Check.is("no minute passed", shop.pass(1), 28 + 1 + 1 + 31 + 1);
     }
 }

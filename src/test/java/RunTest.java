@@ -17,6 +17,16 @@ final class RunTest {
         welds();
         pairsAndScrap();
         revisions();
+        coilEnds();
+        weldPlaces();
+        weldsOfRests();
+        stretchesThatPass();
+        stripWidths();
+        strokesOfAMinute();
+        sensorDegrees();
+        spoiltStrokes();
+        endsOfTheLastStroke();
+        pairsAtTheEdges();
         Check.end();
     }
 
@@ -272,5 +282,255 @@ final class RunTest {
         Check.is("of the first one", shop.stock(0, 0), 4);
         Check.is("of the last one", shop.stock(0, 1), 2);
         Check.refuses("of the next one", INDEX, () -> shop.stock(0, 2));
+    }
+
+    /** A coil that ends just at the end of a pitch, and each other length up to a millimetre behind three of them. */
+    private static void coilEnds() {
+        for (int length = 1; length <= 31; length++) {
+            for (int strokes = 1; strokes <= 4; strokes++) {
+                StrikeStrip shop = Shops.ready(length);
+                int made = Math.min(strokes, length / 10);
+                String what = strokes + " strokes of " + length;
+                Check.is(what, shop.run(0, strokes), made);
+                Check.is("the end of " + what, shop.ended(), made == strokes ? 'd' : 'c');
+                Check.is("left of " + what, shop.left(0), length - 10 * made);
+                Check.is("made of " + what, shop.strokes(0), made);
+                Check.is("stock of " + what, shop.stock(0, 0), made);
+                Check.is("the minute of " + what, shop.pass(1), 28 + (made > 0 ? 1 : 0) + 1);
+                Check.is("the scrap of " + what, shop.scrap(0), made * 125L * 100 * 785 / 10000);
+                if (length == 10 * made) {
+                    Check.refuses("a stroke more of " + what, UNSUPPORTED, () -> shop.run(0, 1));
+                    Check.is("still ended", shop.ended(), made == strokes ? 'd' : 'c');
+                }
+            }
+        }
+    }
+
+    /** A weld at each millimetre of three pitches, run at once and stroke by stroke. */
+    private static void weldPlaces() {
+        for (int weld = 1; weld < 30; weld++) {
+            StrikeStrip atOnce = welded(weld, 30 - weld);
+            StrikeStrip oneByOne = welded(weld, 30 - weld);
+            int good = 0;
+            for (int stroke = 0; stroke < 3; stroke++) {
+                boolean isWithin = weld > 10 * stroke && weld < 10 * stroke + 10;
+                good += isWithin ? 0 : 1;
+                Check.is("stroke " + stroke + " of a weld at " + weld, oneByOne.run(0, 1), isWithin ? 0 : 1);
+                Check.is("it does not end there", oneByOne.ended(), 'd');
+                Check.is("it is made", oneByOne.strokes(0), stroke + 1);
+            }
+            Check.is("all of a weld at " + weld, atOnce.run(0, 3), good);
+            Check.is("the end of it", atOnce.ended(), 'd');
+            Check.is("the scrap of it", atOnce.scrap(0), oneByOne.scrap(0));
+            Check.isReal("the share of it", atOnce.goodShare(), (float) good / (float) 3);
+            Check.isTrue("sound", atOnce.isSound() && oneByOne.isSound());
+        }
+    }
+
+    private static StrikeStrip welded(int first, int second) {
+        StrikeStrip shop = Shops.ready(first);
+        shop.coil(0, 103, 15, second);
+        shop.weld(0, 1);
+        return shop;
+    }
+
+    /** A weld behind a coil that was run already, one in what is too short for a stroke, and two in one pitch. */
+    private static void weldsOfRests() {
+        for (int rest = 9; rest <= 11; rest++) {
+            StrikeStrip shop = Shops.ready(20 + rest);
+            shop.run(0, 2);
+            shop.coil(0, 100, 15, 40);
+            Check.is("welded behind a rest", shop.weld(0, 1), rest + 40);
+            Check.is("the first stroke", shop.run(0, 1), rest == 9 ? 0 : 1);
+            Check.is("the second one", shop.run(0, 1), rest == 11 ? 0 : 1);
+            Check.is("the third one", shop.run(0, 1), 1);
+        }
+        StrikeStrip shop = welded(12, 3);
+        Check.is("5 are left, with a weld at 2", shop.run(0, 2), 1);
+        Check.is("too little", shop.ended(), 'c');
+        Check.is("left", shop.left(0), 5);
+        shop.coil(0, 100, 15, 20);
+        Check.is("two welds", shop.weld(0, 2), 25);
+        Check.is("are in one pitch", shop.run(0, 1), 0);
+        Check.is("and none in the next one", shop.run(0, 5), 1);
+        Check.is("left behind it", shop.left(0), 5);
+        Check.is("too little again", shop.ended(), 'c');
+        StrikeStrip short1 = welded(5, 5);
+        Check.is("a coil that ends with a weld in its pitch", short1.run(0, 1), 0);
+        Check.is("is struck", short1.ended(), 'd');
+        Check.is("all of it is scrap", short1.scrap(0), 75L * 203 * 785 / 10000);
+        StrikeStrip shorter = welded(5, 4);
+        Check.is("a millimetre less", shorter.run(0, 1), 0);
+        Check.is("is not struck", shorter.ended(), 'c');
+        Check.is("nothing is scrap", shorter.scrap(0), 0);
+    }
+
+    /** Only the foremost stretch, as the run begins, must have the part's thickness. */
+    private static void stretchesThatPass() {
+        StrikeStrip shop = Shops.ready(10);
+        shop.coil(0, 105, 15, 10);
+        shop.coil(0, 110, 15, 20);
+        shop.weld(0, 1);
+        shop.weld(0, 2);
+        Check.is("100, 105 and 110", shop.run(0, 3), 3);
+        long scrap = 125L * (100 + 105 + 110) * 785;
+        Check.is("each with its own thickness", shop.scrap(0), scrap / 10000);
+        Check.isReal("the parts, too", shop.meanWeight(), (double) (25L * 315 * 785 / 10000) / (double) 3);
+        Check.refuses("110 in a new run", UNSUPPORTED, () -> shop.run(0, 1));
+        StrikeStrip other = Shops.ready(10);
+        other.coil(0, 105, 15, 1);
+        other.coil(0, 106, 15, 10);
+        other.weld(1, 2);
+        Check.is("105, for a millimetre, and 106", other.run(1, 1), 0);
+        Check.is("it is struck", other.ended(), 'd');
+        Check.refuses("106 is what is left", UNSUPPORTED, () -> other.run(1, 1));
+        Check.is("a millimetre of it", other.left(1), 1);
+    }
+
+    /** A strip is 2 cells of 5 millimetres higher than the shape. */
+    private static void stripWidths() {
+        for (int rows = 1; rows <= 8; rows++) {
+            for (int width = 5 * rows + 9; width <= 5 * rows + 11; width++) {
+                StrikeStrip shop = new StrikeStrip();
+                shop.part(1, 300);
+                shop.draw(0, 3, 8 - rows, 2, rows);
+                shop.die(0, false);
+                shop.coil(1, 300, width, 100);
+                shop.change(0);
+                if (width < 5 * rows + 10) {
+                    Check.refuses("too narrow", UNSUPPORTED, () -> shop.run(0, 1));
+                } else {
+                    Check.is("wide enough", shop.run(0, 7), 6);
+                    Check.is("15 each", shop.left(0), 10);
+                    long cells = 25L * 2 * rows;
+                    Check.is("its scrap", shop.scrap(1), 6 * (15L * width - cells) * 300 * 270 / 10000);
+                }
+            }
+        }
+    }
+
+    /** A minute for each 30 strokes, and for what is left of them. */
+    private static void strokesOfAMinute() {
+        StrikeStrip shop = Shops.ready(100000);
+        int minute = 28;
+        for (int strokes : new int[] {1, 29, 30, 31, 59, 60, 61, 89, 90, 91}) {
+            Check.is("good ones", shop.run(0, strokes), strokes);
+            minute += (strokes + 29) / 30 + 1;
+            Check.is("the minute behind " + strokes, shop.pass(1), minute);
+        }
+        // Those that were made count, also if they are scrap.
+        StrikeStrip ended = Shops.ready(100000);
+        ended.misfeed(0, 30);
+        Check.is("30 good ones", ended.run(0, 600), 30);
+        Check.is("31 were made", ended.pass(1), 28 + 2 + 1);
+        StrikeStrip before = Shops.ready(100000);
+        before.misfeed(0, 29);
+        Check.is("29 good ones", before.run(0, 600), 29);
+        Check.is("30 were made", before.pass(1), 28 + 1 + 1);
+        StrikeStrip without = Shops.ready(300);
+        Check.is("30 of 300", without.run(0, 31), 30);
+        Check.is("the 31st was not made", without.pass(1), 28 + 1 + 1);
+    }
+
+    /** A misfeed is seen from 30 to 150, at each of them. */
+    private static void sensorDegrees() {
+        for (int degree = 0; degree < 360; degree++) {
+            StrikeStrip shop = Shops.ready(100);
+            shop.sensor(0, degree);
+            shop.misfeed(0, 1);
+            boolean isSeen = degree >= 30 && degree <= 150;
+            Check.is("good ones, looking at " + degree, shop.run(0, 4), isSeen ? 1 : 2);
+            Check.is("the end of it", shop.ended(), isSeen ? 'm' : 'd');
+            Check.is("the strokes of it", shop.strokes(0), isSeen ? 2 : 4);
+        }
+    }
+
+    /** What a misfeed that was not seen spoils, is the next stroke of its die that is made. */
+    private static void spoiltStrokes() {
+        StrikeStrip shop = Shops.ready(1000);
+        shop.sensor(0, 151);
+        shop.misfeed(0, 0);
+        Check.is("the first stroke of a die", shop.run(0, 1), 0);
+        Check.is("is not seen", shop.ended(), 'd');
+        Check.is("the next run", shop.run(0, 1), 0);
+        Check.is("the one behind it", shop.run(0, 1), 1);
+        shop.misfeed(0, 3);
+        shop.misfeed(0, 5);
+        Check.is("3 and 4, 5 and 6", shop.run(0, 5), 1);
+        shop.misfeed(0, 8);
+        shop.run(0, 1);
+        shop.regrind(0);
+        shop.revise(0, 20);
+        shop.sensor(0, 90);
+        shop.pass(1000);
+        Check.is("whatever is done between them", shop.run(0, 1), 0);
+        Check.is("of the new revision there is none", shop.stock(0, 1), 0);
+        Check.is("one of them", shop.run(0, 1), 1);
+        // A burr and a weld in a spoilt stroke, which spoil no other one.
+        StrikeStrip other = Shops.ready(15);
+        other.coil(0, 100, 15, 100);
+        other.weld(0, 1);
+        other.sensor(0, 29);
+        other.misfeed(0, 0);
+        Check.is("spoilt, and welded", other.run(0, 3), 1);
+        Check.is("three strokes", other.strokes(0), 3);
+    }
+
+    /** The last stroke that was asked for may end the run, too. */
+    private static void endsOfTheLastStroke() {
+        StrikeStrip shop = Shops.ready(100);
+        shop.misfeed(0, 2);
+        Check.is("two, and the misfeed", shop.run(0, 3), 2);
+        Check.is("which is seen", shop.ended(), 'm');
+        shop.clearance(0, 30);
+        Check.is("the burr of one", shop.run(0, 1), 0);
+        Check.is("ends it", shop.ended(), 'b');
+        shop.misfeed(0, 4);
+        Check.is("both of one", shop.run(0, 1), 0);
+        Check.is("ends it by the misfeed", shop.ended(), 'm');
+        shop.misfeed(0, 5);
+        shop.sensor(0, 0);
+        Check.is("a misfeed that is not seen, and the burr", shop.run(0, 1), 0);
+        Check.is("ends it by the burr", shop.ended(), 'b');
+        shop.clearance(0, 8);
+        Check.is("the next one is spoilt, and the last one of the coil is good", shop.run(0, 4), 3);
+        Check.is("done", shop.ended(), 'd');
+        Check.is("nothing is left", shop.left(0), 0);
+        Check.is("ten strokes", shop.strokes(0), 10);
+    }
+
+    /** Two parts a stroke, of a pitch of 25 and a width of 40. */
+    private static void pairsAtTheEdges() {
+        for (int length = 49; length <= 51; length++) {
+            StrikeStrip shop = angles();
+            shop.coil(0, 100, 40, length);
+            int made = length / 25;
+            Check.is("pairs of " + length, shop.run(0, 2), 2 * made);
+            Check.is("the end of " + length, shop.ended(), made == 2 ? 'd' : 'c');
+            Check.is("left of " + length, shop.left(0), length - 25 * made);
+        }
+        for (int weld = 24; weld <= 26; weld++) {
+            StrikeStrip shop = angles();
+            shop.coil(0, 100, 40, weld);
+            shop.coil(0, 100, 40, 75 - weld);
+            shop.weld(0, 1);
+            Check.is("a weld at " + weld, shop.run(0, 3), weld == 25 ? 6 : 4);
+            Check.isReal("the share", shop.goodShare(), weld == 25 ? 1 : (float) 2 / (float) 3);
+            long good = (weld == 25 ? 6 : 4) * 7L * 25;
+            Check.is("the scrap", shop.scrap(0), (75L * 40 - good) * 100 * 785 / 10000);
+        }
+        StrikeStrip narrow = angles();
+        narrow.coil(0, 100, 39, 100);
+        Check.refuses("39 wide", UNSUPPORTED, () -> narrow.run(0, 1));
+    }
+
+    private static StrikeStrip angles() {
+        StrikeStrip shop = new StrikeStrip();
+        shop.part(0, 100);
+        shop.draw(0, 0, 0, 4, 1);
+        shop.draw(0, 0, 0, 1, 4);
+        shop.die(0, true);
+        shop.change(0);
+        return shop;
     }
 }

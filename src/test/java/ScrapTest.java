@@ -10,6 +10,10 @@ final class ScrapTest {
         shares();
         means();
         soundness();
+        kilogramEdges();
+        partsOfAMilligram();
+        scrapStrokes();
+        nothingYet();
         Check.end();
     }
 
@@ -137,5 +141,100 @@ final class ScrapTest {
         shop.sell(0);
         shop.apart(0, 0, 1);
         Check.isTrue("and what is sold", shop.isSound());
+    }
+
+    /** Half a milligram less than a kilogram, which is not sold, and a third of one more. */
+    private static void kilogramEdges() {
+        int[][] last = {{395, 66, 400, 376}, {395, 97, 397, 348}};
+        for (int i = 0; i < 2; i++) {
+            StrikeStrip shop = new StrikeStrip();
+            shop.part(3, 400);
+            shop.draw(0, 0, 0, 1, 1);
+            shop.die(0, false);
+            shop.clearance(0, 30);
+            shop.change(0);
+            shop.coil(3, 400, 500, 50);
+            shop.coil(3, last[i][0], last[i][1], 10);
+            shop.coil(3, last[i][2], last[i][3], 10);
+            for (int stroke = 0; stroke < 5; stroke++) {
+                Check.is("all is scrap by the burr", shop.run(0, 1), 0);
+            }
+            shop.run(1, 1);
+            shop.run(2, 1);
+            Check.is("nearly a kilogram, or just one", shop.scrap(3), i == 0 ? 999999 : 1000000);
+            shop.price(3, 9999);
+            Check.is("it brings", shop.sell(3), i == 0 ? 0 : 9999);
+            Check.is("it leaves", shop.scrap(3), i == 0 ? 999999 : 0);
+            Check.isTrue("sound", shop.isSound());
+            Check.is("nothing more", shop.sell(3), 0);
+            shop.coil(3, 400, 15, 10);
+            shop.run(3, 1);
+            Check.is("one more stroke, of 5100", shop.scrap(3), i == 0 ? 1005099 : 5100);
+            Check.is("brings", shop.sell(3), i == 0 ? 9999 : 0);
+            Check.is("and leaves", shop.scrap(3), i == 0 ? 5099 : 5100);
+        }
+    }
+
+    /** A stroke of 20 by 15 by 10 of alloy 0 weighs 235.5, and its part 39.25: what is left is kept to the part. */
+    private static void partsOfAMilligram() {
+        StrikeStrip shop = new StrikeStrip();
+        shop.part(0, 20);
+        shop.draw(0, 0, 0, 1, 1);
+        shop.die(0, false);
+        shop.coil(0, 20, 15, 1000);
+        shop.change(0);
+        for (int stroke = 1; stroke <= 8; stroke++) {
+            shop.run(0, 1);
+            Check.is("196.25 each", shop.scrap(0), stroke * 19625 / 100);
+            Check.is("235.5 each", shop.weight(0), (100 - stroke) * 2355 / 10);
+            Check.isReal("39.25 each, the sum rounded down", shop.meanWeight(),
+                    (double) (stroke * 3925L / 100) / (double) stroke);
+            Check.isTrue("sound", shop.isSound());
+        }
+    }
+
+    /** Strokes that are scrap by a weld, a misfeed, the one behind it, and a burr are strokes, but not good ones. */
+    private static void scrapStrokes() {
+        StrikeStrip shop = Shops.ready(15);
+        shop.coil(0, 100, 15, 1000);
+        shop.weld(0, 1);
+        shop.run(0, 1);
+        Check.isReal("one of one", shop.goodShare(), 1);
+        shop.run(0, 1);
+        Check.isReal("a weld", shop.goodShare(), (float) 1 / (float) 2);
+        shop.misfeed(0, 2);
+        shop.run(0, 1);
+        Check.isReal("a misfeed", shop.goodShare(), (float) 1 / (float) 3);
+        shop.sensor(0, 0);
+        shop.misfeed(0, 3);
+        shop.run(0, 2);
+        Check.isReal("one that is not seen", shop.goodShare(), (float) 1 / (float) 5);
+        shop.clearance(0, 30);
+        shop.run(0, 1);
+        Check.isReal("a burr", shop.goodShare(), (float) 1 / (float) 6);
+        Check.is("all but one part is scrap", shop.scrap(0), (60L * 15 - 25) * 100 * 785 / 10000);
+        Check.isReal("its weight", shop.meanWeight(), 196);
+        shop.clearance(0, 8);
+        shop.run(0, 600);
+        Check.isReal("and 95 good ones", shop.goodShare(), (float) 96 / (float) 101);
+        Check.is("the last one was not made", shop.strokes(0), 101);
+    }
+
+    private static void nothingYet() {
+        StrikeStrip shop = Shops.ready(9);
+        shop.run(0, 1);
+        Check.refuses("no stroke was made", ARITHMETIC, () -> (long) shop.goodShare());
+        Check.refuses("and no part", ARITHMETIC, () -> (long) shop.meanWeight());
+        Check.isTrue("sound", shop.isSound());
+        shop.coil(0, 100, 15, 10);
+        shop.clearance(0, 30);
+        shop.run(1, 1);
+        Check.isReal("one of scrap", shop.goodShare(), 0);
+        Check.refuses("still no part", ARITHMETIC, () -> (long) shop.meanWeight());
+        shop.coil(0, 100, 15, 10);
+        shop.clearance(0, 8);
+        shop.run(2, 1);
+        Check.isReal("and a good one", shop.goodShare(), (float) 1 / (float) 2);
+        Check.isReal("its weight", shop.meanWeight(), 196);
     }
 }

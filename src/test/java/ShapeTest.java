@@ -16,7 +16,12 @@ final class ShapeTest {
         corners();
         pairs();
         ties();
+        bars();
+        twoCells();
+        lyingAnywhere();
+        shares();
         revisions();
+        limits();
         anyShapes();
         Check.end();
     }
@@ -266,5 +271,96 @@ final class ShapeTest {
             }
         }
         return true;
+    }
+
+    /** One empty cell lies between: a bar of so many columns needs one more, at whatever row it is. */
+    private static void bars() {
+        for (int columns = 1; columns <= 8; columns++) {
+            StrikeStrip shop = new StrikeStrip();
+            for (int rows = 1; rows <= 8; rows++) {
+                shop.part(0, 100);
+                Check.is("the cells", shop.draw(rows - 1, 8 - columns, 8 - rows, columns, rows), columns * rows);
+                Check.is("the pitch", shop.pitch(rows - 1, false), columns + 1);
+                Check.is("the height", shop.height(rows - 1, false), rows + 2);
+                Check.is("used", shop.used(rows - 1, false), 1000 * columns * rows / ((columns + 1) * (rows + 2)));
+                // Above each other they take 2 rows + 3, beside each other 2 columns + 2 at rows + 2.
+                int above = (columns + 1) * (2 * rows + 3);
+                int beside = (2 * columns + 2) * (rows + 2);
+                Check.isTrue("above each other is less", above < beside);
+                Check.is("the pitch of the pair", shop.pitch(rows - 1, true), columns + 1);
+                Check.is("the height of the pair", shop.height(rows - 1, true), 2 * rows + 3);
+            }
+        }
+    }
+
+    /** A cell in a corner, and another one: the pitch by how far that is off. */
+    private static void twoCells() {
+        // No multiple of it is a column fewer or more than the other cell: by 6, 4 and 8 are not, 2 and 3 lead to 6.
+        int[] dues = {2, 3, 4, 5, 6, 7, 4, 5};
+        for (int column = 0; column < 8; column++) {
+            for (int row = 0; row < 3; row++) {
+                StrikeStrip shop = new StrikeStrip();
+                shop.part(0, 100);
+                shop.draw(0, 0, 0, 1, 1);
+                shop.draw(0, column, row, 1, 1);
+                // With a row between them the other cell is never near.
+                int due = row == 2 ? 2 : dues[column];
+                Check.is("the pitch of a cell and " + column + ", " + row, shop.pitch(0, false), due);
+            }
+        }
+    }
+
+    /** A shape lies the same wherever on the board it is drawn: also its pair, which is moved by up to 9. */
+    private static void lyingAnywhere() {
+        for (int x = 0; x <= 5; x += 5) {
+            for (int y = 0; y <= 5; y += 5) {
+                StrikeStrip shop = new StrikeStrip();
+                shop.part(0, 100);
+                shop.draw(0, x, y, 3, 1);
+                shop.draw(0, x, y, 1, 3);
+                Check.is("the pitch", shop.pitch(0, false), 4);
+                Check.is("the height", shop.height(0, false), 5);
+                Check.is("the pitch of the pair", shop.pitch(0, true), leastPair(angle(x, y)) / 100);
+                Check.is("the height of the pair", shop.height(0, true), leastPair(angle(x, y)) % 100);
+                Check.is("the same as in a corner", leastPair(angle(x, y)), leastPair(angle(0, 0)));
+            }
+        }
+    }
+
+    private static int[][] angle(int x, int y) {
+        return new int[][] {{x, y}, {x + 1, y}, {x + 2, y}, {x, y + 1}, {x, y + 2}};
+    }
+
+    private static void shares() {
+        StrikeStrip shop = new StrikeStrip();
+        shop.part(0, 100);
+        shop.draw(0, 0, 0, 1, 1);
+        Check.is("1 of 6, rounded down", shop.used(0, false), 166);
+        Check.is("2 of 10, just so", shop.used(0, true), 200);
+        shop.draw(0, 1, 0, 1, 1);
+        Check.is("2 of 9", shop.used(0, false), 222);
+        Check.is("4 of 15", shop.used(0, true), 266);
+        shop.draw(0, 0, 0, 8, 8);
+        Check.is("64 of 90", shop.used(0, false), 711);
+        Check.is("128 of 171", shop.used(0, true), 748);
+    }
+
+    /** A stroke is good as long as its burr is not more than the limit: with 0 and with 99, too. */
+    private static void limits() {
+        StrikeStrip shop = Shops.ready(100000);
+        shop.revise(0, 0);
+        Check.is("no burr up to a wear of 49", shop.run(0, 600), 50);
+        Check.is("the end", shop.ended(), 'b');
+        Check.is("the strokes", shop.strokes(0), 51);
+        shop.revise(0, 99);
+        int good = 50;
+        for (int i = 0; i < 8; i++) {
+            good += shop.run(0, 600);
+        }
+        Check.is("all that were struck", good, 50 + 4800);
+        Check.is("a burr of 97", shop.burr(0), 97);
+        Check.is("up to a wear of 4999", shop.run(0, 600), 5000 - 4851);
+        Check.is("the end at 100", shop.ended(), 'b');
+        Check.is("the burr", shop.burr(0), 100);
     }
 }

@@ -12,6 +12,10 @@ final class ToolTest {
         burrs();
         misfeeds();
         manyMisfeeds();
+        wearAhead();
+        wornOut();
+        clearancesOnBothSides();
+        misfeedsOfMadeStrokes();
         Check.end();
     }
 
@@ -104,5 +108,89 @@ final class ToolTest {
             Check.is("as many strokes", shop.strokes(0), 2 * i + 1);
         }
         Check.is("the others are to come", shop.misfeed(0, 99), 281);
+    }
+
+    /** The burr of a stroke is that of the wear ahead of it: with a limit of 1, that of 99 is good, of 100 not. */
+    private static void wearAhead() {
+        for (int limit = 0; limit <= 3; limit++) {
+            StrikeStrip shop = Shops.ready(10000);
+            shop.revise(0, limit);
+            int good = 50 * limit + 50;
+            Check.is("all but one", shop.run(0, good - 1), good - 1);
+            Check.is("the burr ahead of the last one", shop.burr(0), limit);
+            Check.is("the last one is good", shop.run(0, 1), 1);
+            Check.is("and does not end it", shop.ended(), 'd');
+            Check.is("the burr behind it", shop.burr(0), limit + 1);
+            Check.is("the next one is scrap", shop.run(0, 1), 0);
+            Check.is("and ends it", shop.ended(), 'b');
+            Check.is("scrap wears, too", shop.strokes(0), good + 1);
+        }
+        StrikeStrip shop = Shops.ready(10000);
+        shop.misfeed(0, 49);
+        Check.is("49 good ones", shop.run(0, 50), 49);
+        Check.is("the 50th wears, though it is scrap", shop.burr(0), 1);
+    }
+
+    /** 4800 is not below 4800. */
+    private static void wornOut() {
+        StrikeStrip shop = Shops.ready(1000);
+        for (int i = 0; i < 7; i++) {
+            shop.regrind(0);
+        }
+        Check.is("the eighth time", shop.regrind(0), 4800);
+        Check.is("the shims", shop.shims(0), 200);
+        Check.is("it still makes parts", shop.run(0, 1), 1);
+        Check.is("the ninth time", shop.regrind(0), 4775);
+        Check.is("the shims then", shop.shims(0), 225);
+        Check.refuses("it makes nothing more", STATE, () -> shop.run(0, 1));
+        Check.refuses("there is no tenth time", UNSUPPORTED, () -> shop.regrind(0));
+        Check.is("the shims stay", shop.shims(0), 225);
+        shop.die(0, false);
+        Check.is("another one has none", shop.shims(1), 0);
+        Check.is("it can be reground", shop.regrind(1), 4975);
+        Check.is("and be changed to", shop.change(1), 31);
+        Check.is("and back to what is worn out", shop.change(0), 31);
+        Check.refuses("which still makes nothing", STATE, () -> shop.run(0, 1));
+    }
+
+    private static void clearancesOnBothSides() {
+        StrikeStrip shop = Shops.withDie(false);
+        for (int clearance = 1; clearance <= 30; clearance++) {
+            int due = clearance < 8 ? 8 - clearance : clearance - 8;
+            Check.is("the burr at " + clearance, shop.clearance(0, clearance), due);
+            Check.is("it stays", shop.burr(0), due);
+        }
+        StrikeStrip other = Shops.ready(1000);
+        other.revise(0, 7);
+        other.clearance(0, 1);
+        Check.is("7 is not more than 7", other.run(0, 1), 1);
+        other.clearance(0, 15);
+        Check.is("nor on the other side", other.run(0, 1), 1);
+        other.clearance(0, 16);
+        Check.is("8 is", other.run(0, 1), 0);
+        StrikeStrip first = Shops.ready(1000);
+        first.clearance(0, 28);
+        Check.is("20 is the limit at first", first.run(0, 1), 1);
+        first.clearance(0, 29);
+        Check.is("21 is more", first.run(0, 1), 0);
+    }
+
+    private static void misfeedsOfMadeStrokes() {
+        StrikeStrip shop = Shops.ready(1000);
+        Check.is("one that is next", shop.misfeed(0, 0), 1);
+        shop.run(0, 1);
+        Check.refuses("one that was made", ARGUMENT, () -> shop.misfeed(0, 0));
+        Check.is("the next one", shop.misfeed(0, 1), 1);
+        Check.is("one more", shop.misfeed(0, 3), 2);
+        shop.run(0, 3);
+        Check.is("it ended the run", shop.strokes(0), 2);
+        Check.refuses("it was made", ARGUMENT, () -> shop.misfeed(0, 1));
+        Check.refuses("it was told", ARGUMENT, () -> shop.misfeed(0, 3));
+        Check.is("the next one again", shop.misfeed(0, 2), 2);
+        shop.run(0, 3);
+        shop.run(0, 3);
+        Check.is("the strokes", shop.strokes(0), 4);
+        Check.is("none but this is to come", shop.misfeed(0, 99999), 1);
+        Check.is("that of another die is its own", shop.die(0, false) + shop.misfeed(1, 99999), 2);
     }
 }

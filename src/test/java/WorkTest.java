@@ -14,6 +14,12 @@ final class WorkTest {
         apart();
         stations();
         anyStations();
+        rowOfEight();
+        eightApart();
+        behindMany();
+        stationForces();
+        earlierFirst();
+        diesApart();
         Check.end();
     }
 
@@ -221,5 +227,125 @@ final class WorkTest {
             shop.work(0, force, 180, 0);
         }
         return shop;
+    }
+
+    /** As many works as there can be, each behind the one with the next number: as many stations. */
+    private static void rowOfEight() {
+        StrikeStrip shop = withWorks(8, 1);
+        Check.is("all at one", shop.stations(0), 1);
+        for (int i = 0; i < 7; i++) {
+            Check.is("behind one", shop.behind(0, i, i + 1), 1);
+            Check.is("a station more", shop.stations(0), i + 2);
+        }
+        for (int i = 0; i < 8; i++) {
+            Check.is("its station", shop.stationOf(0, i), 7 - i);
+        }
+        Check.refuses("a ring of all eight", UNSUPPORTED, () -> shop.behind(0, 7, 0));
+        Check.refuses("a ring over six", UNSUPPORTED, () -> shop.behind(0, 6, 0));
+        Check.is("behind over six, and told", shop.behind(0, 0, 7), 2);
+        Check.isTrue("sound", shop.isSound());
+    }
+
+    private static void eightApart() {
+        StrikeStrip shop = withWorks(8, 1);
+        for (int i = 0; i < 8; i++) {
+            for (int j = 0; j < i; j++) {
+                Check.isTrue("apart", shop.apart(0, i, j));
+                Check.isFalse("told from the other side", shop.apart(0, j, i));
+            }
+            Check.is("stations", shop.stations(0), i + 1);
+        }
+        for (int i = 0; i < 8; i++) {
+            Check.is("its station", shop.stationOf(0, i), i);
+        }
+        Check.is("they can be behind each other, too", shop.behind(0, 0, 7), 1);
+        Check.is("the first one is later", shop.stationOf(0, 0), 1);
+        Check.is("the last one is first", shop.stationOf(0, 7), 0);
+        Check.is("no more stations", shop.stations(0), 8);
+    }
+
+    /** One work behind all others, and all others behind one. */
+    private static void behindMany() {
+        StrikeStrip shop = withWorks(8, 1);
+        for (int i = 1; i < 8; i++) {
+            Check.is("behind as many", shop.behind(0, 0, i), i);
+        }
+        Check.is("told again", shop.behind(0, 0, 7), 7);
+        Check.is("two stations", shop.stations(0), 2);
+        Check.is("the second one", shop.stationOf(0, 0), 1);
+        StrikeStrip other = withWorks(8, 1);
+        for (int i = 1; i < 8; i++) {
+            int later = i;
+            Check.is("each behind one", other.behind(0, later, 0), 1);
+            Check.refuses("which can't be behind it", UNSUPPORTED, () -> other.behind(0, 0, later));
+        }
+        Check.is("two stations, too", other.stations(0), 2);
+        Check.is("the first one first", other.stationOf(0, 0), 0);
+        Check.is("the last one second", other.stationOf(0, 7), 1);
+        // Over 3 and 5 work 2 is behind 4; 4 is not behind 6.
+        StrikeStrip third = withWorks(8, 1);
+        third.behind(0, 2, 3);
+        third.behind(0, 3, 5);
+        third.behind(0, 5, 4);
+        Check.refuses("over two", UNSUPPORTED, () -> third.behind(0, 4, 2));
+        Check.refuses("over one", UNSUPPORTED, () -> third.behind(0, 4, 3));
+        Check.refuses("over none", UNSUPPORTED, () -> third.behind(0, 4, 5));
+        Check.is("behind another one", third.behind(0, 4, 6), 1);
+        Check.refuses("now over three", UNSUPPORTED, () -> third.behind(0, 6, 2));
+        Check.is("five in a row", third.stations(0), 5);
+    }
+
+    /** At most 500 tons at a station, by two works, by three, and by eight. */
+    private static void stationForces() {
+        int[][] dues = {{100, 400, 1}, {101, 400, 2}, {250, 250, 1}, {250, 251, 2}, {400, 400, 2}};
+        for (int[] due : dues) {
+            StrikeStrip shop = withWorks(1, due[0]);
+            shop.work(0, due[1], 180, 0);
+            Check.is("stations of " + due[0] + " and " + due[1], shop.stations(0), due[2]);
+        }
+        StrikeStrip shop = withWorks(7, 62);
+        shop.work(0, 66, 180, 0);
+        Check.is("eight of 500 together", shop.stations(0), 1);
+        StrikeStrip other = withWorks(7, 62);
+        other.work(0, 67, 180, 0);
+        Check.is("eight of 501 together", other.stations(0), 2);
+        Check.is("the last one alone", other.stationOf(0, 7), 1);
+        Check.is("the seventh not", other.stationOf(0, 6), 0);
+    }
+
+    /** The fewest stations come first, then the station of the first work, then that of the next one. */
+    private static void earlierFirst() {
+        StrikeStrip shop = Shops.withDie(false);
+        for (int force : new int[] {200, 300, 300, 200}) {
+            shop.work(0, force, 180, 0);
+        }
+        Check.is("two are enough", shop.stations(0), 2);
+        Check.is("200 and 300", shop.stationOf(0, 0) + shop.stationOf(0, 1), 0);
+        Check.is("300 and 200", shop.stationOf(0, 2) + shop.stationOf(0, 3), 2);
+        // At the earliest place each, 1 would come to 0, and three stations would be needed.
+        StrikeStrip other = Shops.withDie(false);
+        for (int force : new int[] {200, 200, 300, 300}) {
+            other.work(0, force, 180, 0);
+        }
+        Check.is("two are enough here", other.stations(0), 2);
+        Check.is("the first one first", other.stationOf(0, 0), 0);
+        Check.is("the second one later", other.stationOf(0, 1), 1);
+        Check.is("the third one earlier", other.stationOf(0, 2), 0);
+        Check.is("the last one later", other.stationOf(0, 3), 1);
+    }
+
+    private static void diesApart() {
+        StrikeStrip shop = withWorks(2, 300);
+        shop.die(0, true);
+        shop.work(1, 1, 90, 0);
+        Check.refuses("a work of the other die", INDEX, () -> shop.stationOf(1, 1));
+        Check.refuses("behind a work of the other die", INDEX, () -> shop.behind(1, 0, 1));
+        shop.work(1, 2, 90, 0);
+        shop.behind(1, 0, 1);
+        Check.is("the other way around here", shop.behind(0, 1, 0), 1);
+        Check.isTrue("apart here", shop.apart(0, 0, 1));
+        Check.isTrue("and there", shop.apart(1, 0, 1));
+        Check.is("the station here", shop.stationOf(0, 0), 0);
+        Check.is("the station there", shop.stationOf(1, 0), 1);
     }
 }
