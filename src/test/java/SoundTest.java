@@ -23,11 +23,20 @@ final class SoundTest {
         Check.isFalse("with less of a coil", cut.isSound());
         int[][] wrong = {{1, 0, 1}, {0, 0, 1}, {0, 1, 0}, {0, 2, 1}, {0, 1, 2}, {-1, 1, 1}};
         for (int[] stations : wrong) {
-            StrikeStrip shop = shop();
-            int[] told = (int[]) read(read(Array.get(read(shop, "dies"), 1), "works"), "station");
-            System.arraycopy(stations, 0, told, 0, 3);
-            Check.isFalse("with other stations", shop.isSound());
+            refuses(shop(), stations);
         }
+        // 501 tons at one station, whether it is the first or the second one.
+        refuses(shopOf(400, 100, 1), 0, 0, 0);
+        refuses(shopOf(1, 400, 100), 1, 1, 1);
+        StrikeStrip row = shopOf(400, 1, 1);
+        row.behind(0, 2, 1);
+        Check.isTrue("as told", row.isSound());
+        refuses(row, 0, 1, 1);
+        refuses(row, 0, 1, 0);
+        StrikeStrip apart = shopOf(1, 1, 1);
+        apart.apart(0, 0, 2);
+        Check.isTrue("as told, too", apart.isSound());
+        refuses(apart, 1, 0, 1);
         Check.end();
     }
 
@@ -43,6 +52,26 @@ final class SoundTest {
         shop.apart(1, 2, 0);
         Check.isTrue("a shop as it is", shop.isSound());
         return shop;
+    }
+
+    private static StrikeStrip shopOf(int... forces) {
+        StrikeStrip shop = Shops.withDie(false);
+        for (int force : forces) {
+            shop.work(0, force, 180, 0);
+        }
+        Check.isTrue("works as they are", shop.isSound());
+        return shop;
+    }
+
+    /** Tells other stations for the works of the last die, as many as there are. */
+    private static void refuses(StrikeStrip shop, int... stations) throws Exception {
+        int last = 0;
+        while (Array.get(read(shop, "dies"), last + 1) != null) {
+            last++;
+        }
+        int[] told = (int[]) read(read(Array.get(read(shop, "dies"), last), "works"), "station");
+        System.arraycopy(stations, 0, told, 0, stations.length);
+        Check.isFalse("with other stations", shop.isSound());
     }
 
     private static Object read(Object owner, String name) throws Exception {
