@@ -50,6 +50,10 @@ final class Look {
                 text.append("\nrun ").append(answer(() -> "" + shop.run(at, most))).append(shop.ended());
             }
         }
+        text.append("\ndraws");
+        for (int part : new int[] {1, 2, 6}) {
+            text.append(' ').append(answer(() -> "" + shop.draw(part, 7, 7, 1, 1)));
+        }
         text.append("\ncalls ").append(answer(() -> "" + shop.call(0, 7, 999999)));
         text.append("\nbends ").append(answer(() -> "" + shop.bend(true, 2)));
         text.append(' ').append(shop.profile(2));

@@ -303,7 +303,14 @@ final class RefusedTest {
         refused("a 9th part", STATE, s -> s.part(0, 100));
         refused("a 7th bend", STATE, s -> s.bend(true, 1));
         refused("a 9th die", STATE, s -> s.die(0, false));
-        refused("a 9th work", STATE, s -> s.work(0, 1, 180, 0));
+        refused("a 9th die, of a part without one", STATE, s -> s.die(6, true));
+        refused("a 9th die of nothing", UNSUPPORTED, s -> s.die(7, true));
+        refused("a 9th work", STATE, s -> s.work(0, 400, 90, 99));
+        for (int work = 0; work < 8; work++) {
+            int same = work;
+            refused("a work of eight behind itself", UNSUPPORTED, s -> s.behind(0, same, same));
+            refused("a work of eight apart from itself", UNSUPPORTED, s -> one(s.apart(0, same, same)));
+        }
         refused("a 41st call", STATE, s -> s.call(0, 1, 500));
         refused("coil 12", INDEX, s -> s.left(12));
         refused("part 8", INDEX, s -> s.racks(8));
